@@ -112,7 +112,7 @@ public final class EvenClock {
         if (way == WAY_NEAREST) {
             tree.joinNearest();
         } else {
-            tree.joinHalves(pins, 0, pins.count, 0);
+            tree.joinHalves(pins);
         }
         tree.choosePlaces(gridU(sourceX, sourceY), gridV(sourceX, sourceY));
         buffered = 0;
@@ -290,16 +290,20 @@ public final class EvenClock {
             return part[k][PARENT] == NO_NODE;
         }
 
+        void joinHalves(Pins pins) {
+            joinRow(this, pins, 0, leaves, 0);
+        }
+
         /** Ten sinks are cut four times at most; the bound on the cuts only guards the depth. */
-        int joinHalves(Pins pins, int from, int end, int cuts) {
+        private static int joinRow(Tree tree, Pins pins, int from, int end, int cuts) {
             if (end - from <= 1 || cuts >= MOST_SINKS) {
-                return row[from];
+                return tree.row[from];
             }
-            orderRow(pins, from, end, cuts % 2 == 0);
+            tree.orderRow(pins, from, end, cuts % 2 == 0);
             int middle = from + (end - from + 1) / 2;
-            int left = joinHalves(pins, from, middle, cuts + 1);
-            int right = joinHalves(pins, middle, end, cuts + 1);
-            return join(left, right);
+            int left = joinRow(tree, pins, from, middle, cuts + 1);
+            int right = joinRow(tree, pins, middle, end, cuts + 1);
+            return tree.join(left, right);
         }
 
         private void orderRow(Pins pins, int from, int end, boolean byX) {

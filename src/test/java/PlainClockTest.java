@@ -1,6 +1,9 @@
 import java.util.Random;
 
-/** Many runs of calls, the same ones each time, held against PlainClock. */
+/**
+ * Many runs of calls, the same ones each time, held against PlainClock. A run makes more calls than
+ * the 512 that the document speaks of: nothing in the program counts them.
+ */
 public final class PlainClockTest {
     private static final Check CHECK = new Check("PlainClockTest");
     private static final int RUNS = 1500;
