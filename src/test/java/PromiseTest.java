@@ -1,13 +1,5 @@
-import java.util.NoSuchElementException;
-
 /** Each promise with answers worked out by hand, at its edges, and with wrong inputs. */
 public final class PromiseTest {
-    private static final Class<IllegalArgumentException> ARGUMENT = IllegalArgumentException.class;
-    private static final Class<IllegalStateException> STATE = IllegalStateException.class;
-    private static final Class<IndexOutOfBoundsException> INDEX = IndexOutOfBoundsException.class;
-    private static final Class<UnsupportedOperationException> UNSUPPORTED =
-            UnsupportedOperationException.class;
-    private static final Class<NoSuchElementException> NO_ELEMENT = NoSuchElementException.class;
     private static final int[] FAR_OFF = {Integer.MIN_VALUE, Integer.MAX_VALUE};
 
     private static final Check CHECK = new Check("PromiseTest");
@@ -48,56 +40,11 @@ public final class PromiseTest {
         CHECK.end();
     }
 
-    /** Joined at 2048, 2048 with 2048 of wire each way and above. */
-    private static EvenClock pair() {
-        EvenClock clock = new EvenClock();
-        clock.sink(0, 0, 3, 100);
-        clock.sink(4, 0, 5, 100);
-        clock.build(0);
-        return clock;
-    }
-
-    private static EvenClock clockOf(int... xy) {
-        EvenClock clock = new EvenClock();
-        for (int k = 0; k < xy.length; k += 2) {
-            clock.sink(xy[k], xy[k + 1], 1, 0);
-        }
-        return clock;
-    }
-
-    private static void parts(String what, EvenClock clock, int k, int... due) {
-        for (int part = 0; part < due.length; part++) {
-            CHECK.same(what + ": node(" + k + ", " + part + ")", due[part], clock.node(k, part));
-        }
-    }
-
-    private static void children(String what, EvenClock clock, int k, int left, int right) {
-        parts(what, clock, k, left, right);
-    }
-
-    private static void needsTree(String what, EvenClock clock) {
-        CHECK.fails(what + ": node", STATE, () -> clock.node(0, 0));
-        CHECK.fails(what + ": node, wrong", STATE, () -> clock.node(-1, 99));
-        CHECK.fails(what + ": length", STATE, () -> clock.length());
-        CHECK.fails(what + ": depth", STATE, () -> clock.depth(0));
-        CHECK.fails(what + ": depth, wrong", STATE, () -> clock.depth(-1));
-        CHECK.fails(what + ": set", STATE, () -> clock.set(1, true));
-        CHECK.fails(what + ": set, wrong", STATE, () -> clock.set(-1, false));
-        CHECK.fails(what + ": setting", STATE, () -> clock.setting());
-        CHECK.fails(what + ": load", STATE, () -> clock.load(0, true));
-        CHECK.fails(what + ": load, wrong", STATE, () -> clock.load(-1, false));
-        CHECK.fails(what + ": delay", STATE, () -> clock.delay(0));
-        CHECK.fails(what + ": delay, wrong", STATE, () -> clock.delay(-1));
-        CHECK.fails(what + ": slack", STATE, () -> clock.slack());
-        CHECK.fails(what + ": best", STATE, () -> clock.best());
-        CHECK.fails(what + ": improve", STATE, () -> clock.improve());
-    }
-
     // Promise 1
     private static void newObject() {
         EvenClock clock = new EvenClock();
         CHECK.same("a new object's sinks", 0, clock.sinks());
-        needsTree("a new object", clock);
+        CHECK.noTree("a new object", clock);
         EvenClock other = new EvenClock();
         clock.sink(1, 1, 1, 1);
         CHECK.same("another object's sinks", 0, other.sinks());
@@ -114,13 +61,13 @@ public final class PromiseTest {
             {0, 0, 101, 0}, {0, 0, -1, 0}, {0, 0, 1, -1}, {0, 0, 1, 1000000001},
         };
         for (int[] w : wrong) {
-            CHECK.fails("a wrong sink", ARGUMENT, () -> clock.sink(w[0], w[1], w[2], w[3]));
+            CHECK.fails("a wrong sink", Due.ARGUMENT, () -> clock.sink(w[0], w[1], w[2], w[3]));
         }
         for (int far : FAR_OFF) {
-            CHECK.fails("far x", ARGUMENT, () -> clock.sink(far, 0, 1, 0));
-            CHECK.fails("far y", ARGUMENT, () -> clock.sink(0, far, 1, 0));
-            CHECK.fails("far load", ARGUMENT, () -> clock.sink(0, 0, far, 0));
-            CHECK.fails("far need", ARGUMENT, () -> clock.sink(0, 0, 1, far));
+            CHECK.fails("far x", Due.ARGUMENT, () -> clock.sink(far, 0, 1, 0));
+            CHECK.fails("far y", Due.ARGUMENT, () -> clock.sink(0, far, 1, 0));
+            CHECK.fails("far load", Due.ARGUMENT, () -> clock.sink(0, 0, far, 0));
+            CHECK.fails("far need", Due.ARGUMENT, () -> clock.sink(0, 0, 1, far));
         }
         CHECK.same("sinks after wrong ones", 3, clock.sinks());
         clock.build(0);
@@ -133,8 +80,8 @@ public final class PromiseTest {
         for (int k = 0; k < 10; k++) {
             CHECK.same("sink " + k, k, clock.sink(k, 2 * k, 1, 0));
         }
-        CHECK.fails("an eleventh sink", UNSUPPORTED, () -> clock.sink(0, 0, 1, 0));
-        CHECK.fails("a wrong eleventh sink", ARGUMENT, () -> clock.sink(0, 0, 0, 0));
+        CHECK.fails("an eleventh sink", Due.UNSUPPORTED, () -> clock.sink(0, 0, 1, 0));
+        CHECK.fails("a wrong eleventh sink", Due.ARGUMENT, () -> clock.sink(0, 0, 0, 0));
         CHECK.same("sinks", 10, clock.sinks());
         clock.cut(9);
         CHECK.same("the tenth again", 9, clock.sink(0, 0, 1, 0));
@@ -142,18 +89,18 @@ public final class PromiseTest {
 
     // Promise 3
     private static void cut() {
-        EvenClock clock = clockOf(1, 1, 2, 2, 3, 3);
-        CHECK.fails("a negative cut", ARGUMENT, () -> clock.cut(-1));
-        CHECK.fails("a cut of too many", ARGUMENT, () -> clock.cut(4));
+        EvenClock clock = Clocks.of(1, 1, 2, 2, 3, 3);
+        CHECK.fails("a negative cut", Due.ARGUMENT, () -> clock.cut(-1));
+        CHECK.fails("a cut of too many", Due.ARGUMENT, () -> clock.cut(4));
         for (int far : FAR_OFF) {
-            CHECK.fails("a cut far off", ARGUMENT, () -> clock.cut(far));
+            CHECK.fails("a cut far off", Due.ARGUMENT, () -> clock.cut(far));
         }
         CHECK.same("after wrong cuts", 3, clock.sinks());
         clock.cut(3);
         CHECK.same("after cut(3)", 3, clock.sinks());
         clock.cut(1);
         CHECK.same("after cut(1)", 1, clock.sinks());
-        CHECK.fails("a cut back", ARGUMENT, () -> clock.cut(2));
+        CHECK.fails("a cut back", Due.ARGUMENT, () -> clock.cut(2));
         CHECK.same("a sink after a cut", 1, clock.sink(7, 0, 9, 5));
         clock.build(1);
         CHECK.same("the first stays", 2048, clock.node(0, 3));
@@ -161,12 +108,12 @@ public final class PromiseTest {
         CHECK.same("and so is its load", 9216, clock.load(1, true));
         clock.cut(0);
         CHECK.same("after cut(0)", 0, clock.sinks());
-        CHECK.fails("build after cut(0)", NO_ELEMENT, () -> clock.build(0));
+        CHECK.fails("build after cut(0)", Due.NO_ELEMENT, () -> clock.build(0));
     }
 
     // Promise 4
     private static void source() {
-        EvenClock clock = clockOf(3, 5);
+        EvenClock clock = Clocks.of(3, 5);
         clock.build(0);
         CHECK.same("from 0, 0", 8192, clock.node(0, 8));
         clock.source(200, 0);
@@ -175,13 +122,13 @@ public final class PromiseTest {
         clock.source(0, 200);
         clock.build(0);
         CHECK.same("from 0, 200", 202752, clock.node(0, 8));
-        CHECK.fails("x too small", ARGUMENT, () -> clock.source(-1, 0));
-        CHECK.fails("x too great", ARGUMENT, () -> clock.source(201, 0));
-        CHECK.fails("y too small", ARGUMENT, () -> clock.source(0, -1));
-        CHECK.fails("y too great", ARGUMENT, () -> clock.source(0, 201));
+        CHECK.fails("x too small", Due.ARGUMENT, () -> clock.source(-1, 0));
+        CHECK.fails("x too great", Due.ARGUMENT, () -> clock.source(201, 0));
+        CHECK.fails("y too small", Due.ARGUMENT, () -> clock.source(0, -1));
+        CHECK.fails("y too great", Due.ARGUMENT, () -> clock.source(0, 201));
         for (int far : FAR_OFF) {
-            CHECK.fails("far x", ARGUMENT, () -> clock.source(far, 0));
-            CHECK.fails("far y", ARGUMENT, () -> clock.source(0, far));
+            CHECK.fails("far x", Due.ARGUMENT, () -> clock.source(far, 0));
+            CHECK.fails("far y", Due.ARGUMENT, () -> clock.source(0, far));
         }
         clock.build(0);
         CHECK.same("still from 0, 200", 202752, clock.node(0, 8));
@@ -193,7 +140,7 @@ public final class PromiseTest {
 
     // Promise 5
     private static void wires() {
-        EvenClock clock = pair();
+        EvenClock clock = Clocks.pair();
         clock.wires(3, 1);
         CHECK.same("resistance 3", 239075328L, clock.delay(1));
         clock.wires(1, 2);
@@ -201,13 +148,13 @@ public final class PromiseTest {
         CHECK.same("delay with capacity 2", 104857600L, clock.delay(1));
         clock.wires(20, 20);
         CHECK.same("capacity 20", 90112, clock.load(2, false));
-        CHECK.fails("no resistance", ARGUMENT, () -> clock.wires(0, 1));
-        CHECK.fails("resistance 21", ARGUMENT, () -> clock.wires(21, 1));
-        CHECK.fails("no capacity", ARGUMENT, () -> clock.wires(1, 0));
-        CHECK.fails("capacity 21", ARGUMENT, () -> clock.wires(1, 21));
+        CHECK.fails("no resistance", Due.ARGUMENT, () -> clock.wires(0, 1));
+        CHECK.fails("resistance 21", Due.ARGUMENT, () -> clock.wires(21, 1));
+        CHECK.fails("no capacity", Due.ARGUMENT, () -> clock.wires(1, 0));
+        CHECK.fails("capacity 21", Due.ARGUMENT, () -> clock.wires(1, 21));
         for (int far : FAR_OFF) {
-            CHECK.fails("far resistance", ARGUMENT, () -> clock.wires(far, 1));
-            CHECK.fails("far capacity", ARGUMENT, () -> clock.wires(1, far));
+            CHECK.fails("far resistance", Due.ARGUMENT, () -> clock.wires(far, 1));
+            CHECK.fails("far capacity", Due.ARGUMENT, () -> clock.wires(1, far));
         }
         CHECK.same("capacity still 20", 90112, clock.load(2, false));
         clock.set(2, true);
@@ -220,7 +167,7 @@ public final class PromiseTest {
 
     // Promise 6
     private static void buffer() {
-        EvenClock clock = pair();
+        EvenClock clock = Clocks.pair();
         clock.set(2, true);
         CHECK.same("input at first", 1024, clock.load(2, true));
         CHECK.same("drive and delay at first", 33579008L, clock.delay(1));
@@ -233,16 +180,16 @@ public final class PromiseTest {
         CHECK.same("delay with delay 1000", 33580008L, clock.delay(1));
         clock.buffer(1000000, 1000, 1000000000);
         CHECK.same("all at most", 4195357936128L, clock.delay(1));
-        CHECK.fails("no input", ARGUMENT, () -> clock.buffer(0, 1, 0));
-        CHECK.fails("input too great", ARGUMENT, () -> clock.buffer(1000001, 1, 0));
-        CHECK.fails("no drive", ARGUMENT, () -> clock.buffer(1, 0, 0));
-        CHECK.fails("drive too great", ARGUMENT, () -> clock.buffer(1, 1001, 0));
-        CHECK.fails("delay negative", ARGUMENT, () -> clock.buffer(1, 1, -1));
-        CHECK.fails("delay too great", ARGUMENT, () -> clock.buffer(1, 1, 1000000001));
+        CHECK.fails("no input", Due.ARGUMENT, () -> clock.buffer(0, 1, 0));
+        CHECK.fails("input too great", Due.ARGUMENT, () -> clock.buffer(1000001, 1, 0));
+        CHECK.fails("no drive", Due.ARGUMENT, () -> clock.buffer(1, 0, 0));
+        CHECK.fails("drive too great", Due.ARGUMENT, () -> clock.buffer(1, 1001, 0));
+        CHECK.fails("delay negative", Due.ARGUMENT, () -> clock.buffer(1, 1, -1));
+        CHECK.fails("delay too great", Due.ARGUMENT, () -> clock.buffer(1, 1, 1000000001));
         for (int far : FAR_OFF) {
-            CHECK.fails("far input", ARGUMENT, () -> clock.buffer(far, 1, 0));
-            CHECK.fails("far drive", ARGUMENT, () -> clock.buffer(1, far, 0));
-            CHECK.fails("far delay", ARGUMENT, () -> clock.buffer(1, 1, far));
+            CHECK.fails("far input", Due.ARGUMENT, () -> clock.buffer(far, 1, 0));
+            CHECK.fails("far drive", Due.ARGUMENT, () -> clock.buffer(1, far, 0));
+            CHECK.fails("far delay", Due.ARGUMENT, () -> clock.buffer(1, 1, far));
         }
         CHECK.same("the buffer stays", 4195357936128L, clock.delay(1));
         CHECK.same("the setting stays", 1, clock.setting());
@@ -270,7 +217,7 @@ public final class PromiseTest {
             CHECK.same("nodes by way 0", 2 * k + 1, clock.build(0));
             CHECK.same("nodes by way 1", 2 * k + 1, clock.build(1));
         }
-        EvenClock pair = pair();
+        EvenClock pair = Clocks.pair();
         pair.set(2, true);
         pair.build(0);
         CHECK.same("a tree built anew has no buffers", 0, pair.setting());
@@ -278,182 +225,187 @@ public final class PromiseTest {
 
     private static void buildWrongly() {
         EvenClock clock = new EvenClock();
-        CHECK.fails("no sink by way 0", NO_ELEMENT, () -> clock.build(0));
-        CHECK.fails("no sink by way 1", NO_ELEMENT, () -> clock.build(1));
-        CHECK.fails("no sink by way 2", ARGUMENT, () -> clock.build(2));
+        CHECK.fails("no sink by way 0", Due.NO_ELEMENT, () -> clock.build(0));
+        CHECK.fails("no sink by way 1", Due.NO_ELEMENT, () -> clock.build(1));
+        CHECK.fails("no sink by way 2", Due.ARGUMENT, () -> clock.build(2));
         clock.sink(1, 1, 1, 1);
-        CHECK.fails("way 2", ARGUMENT, () -> clock.build(2));
-        CHECK.fails("way -1", ARGUMENT, () -> clock.build(-1));
+        CHECK.fails("way 2", Due.ARGUMENT, () -> clock.build(2));
+        CHECK.fails("way -1", Due.ARGUMENT, () -> clock.build(-1));
         for (int far : FAR_OFF) {
-            CHECK.fails("way far off", ARGUMENT, () -> clock.build(far));
+            CHECK.fails("way far off", Due.ARGUMENT, () -> clock.build(far));
         }
-        needsTree("after wrong builds", clock);
+        CHECK.noTree("after wrong builds", clock);
     }
 
     // Promise 9
     private static void node() {
-        EvenClock clock = clockOf(0, 0, 2, 2);
+        EvenClock clock = Clocks.of(0, 0, 2, 2);
         clock.source(10, 0);
         clock.build(0);
-        parts("left", clock, 0, -1, -1, 2, 0, 0, 0, 0, 0, 2048, 0, 0);
-        parts("right", clock, 1, -1, -1, 2, 4096, 4096, 0, 0, 0, 2048, 4096, 0);
-        parts("root", clock, 2, 0, 1, -1, 2048, 2048, -2048, 2048, 2048, 8192, 2048, 2048);
+        CHECK.parts("left", clock, 0, -1, -1, 2, 0, 0, 0, 0, 0, 2048, 0, 0);
+        CHECK.parts("right", clock, 1, -1, -1, 2, 4096, 4096, 0, 0, 0, 2048, 4096, 0);
+        CHECK.parts("root", clock, 2, 0, 1, -1, 2048, 2048, -2048, 2048, 2048, 8192, 2048, 2048);
     }
 
     private static void nodeOfOneSink() {
-        EvenClock clock = clockOf(3, 5);
+        EvenClock clock = Clocks.of(3, 5);
         clock.build(1);
-        parts("alone", clock, 0, -1, -1, -1, 8192, 8192, -2048, -2048, 0, 8192, 8192, -2048);
+        CHECK.parts("alone", clock, 0, -1, -1, -1, 8192, 8192, -2048, -2048, 0, 8192, 8192, -2048);
         clock.source(3, 5);
         clock.build(0);
         CHECK.same("no wire above it", 0, clock.node(0, 8));
     }
 
     private static void nodeWrongly() {
-        EvenClock clock = pair();
-        CHECK.fails("node -1", INDEX, () -> clock.node(-1, 0));
-        CHECK.fails("node 3", INDEX, () -> clock.node(3, 0));
-        CHECK.fails("part -1", INDEX, () -> clock.node(0, -1));
-        CHECK.fails("part 11", INDEX, () -> clock.node(0, 11));
+        EvenClock clock = Clocks.pair();
+        CHECK.fails("node -1", Due.INDEX, () -> clock.node(-1, 0));
+        CHECK.fails("node 3", Due.INDEX, () -> clock.node(3, 0));
+        CHECK.fails("part -1", Due.INDEX, () -> clock.node(0, -1));
+        CHECK.fails("part 11", Due.INDEX, () -> clock.node(0, 11));
         for (int far : FAR_OFF) {
-            CHECK.fails("node far off", INDEX, () -> clock.node(far, 0));
-            CHECK.fails("part far off", INDEX, () -> clock.node(0, far));
+            CHECK.fails("node far off", Due.INDEX, () -> clock.node(far, 0));
+            CHECK.fails("part far off", Due.INDEX, () -> clock.node(0, far));
         }
         CHECK.same("node 2, part 10", 2048, clock.node(2, 10));
-        EvenClock larger = clockOf(0, 0, 9, 9, 3, 4);
+        EvenClock larger = Clocks.of(0, 0, 9, 9, 3, 4);
         larger.build(0);
         larger.cut(1);
         larger.build(0);
-        CHECK.fails("a node of the tree before", INDEX, () -> larger.node(1, 0));
+        CHECK.fails("a node of the tree before", Due.INDEX, () -> larger.node(1, 0));
     }
 
     // Terms, BY WAY 0: the nearest are 1 and 3, then 0 with their join, then 2.
     private static void nearestPairs() {
-        EvenClock clock = clockOf(0, 0, 10, 0, 40, 0, 12, 0);
+        EvenClock clock = Clocks.of(0, 0, 10, 0, 40, 0, 12, 0);
         clock.build(0);
-        parts("first join", clock, 4, 1, 3, 5, 11264, 11264, 11264, 11264, 1024, 5120, 11264, 11264);
-        parts("second join", clock, 5, 0, 4, 6, 6144, 6144, 6144, 6144, 6144, 14336, 6144, 6144);
-        parts("root", clock, 6, 2, 5, -1, 20480, 20480, 20480, 20480, 20480, 20480, 20480, 20480);
+        CHECK.parts("first join", clock, 4,
+                1, 3, 5, 11264, 11264, 11264, 11264, 1024, 5120, 11264, 11264);
+        CHECK.parts("second join", clock, 5,
+                0, 4, 6, 6144, 6144, 6144, 6144, 6144, 14336, 6144, 6144);
+        CHECK.parts("root", clock, 6,
+                2, 5, -1, 20480, 20480, 20480, 20480, 20480, 20480, 20480, 20480);
         CHECK.same("wire above 0", 6144, clock.node(0, 8));
         CHECK.same("wire above 2", 20480, clock.node(2, 8));
     }
 
     // Four corners of a square: 0 has two sinks as near, and the lesser number goes first.
     private static void nearestTies() {
-        EvenClock clock = clockOf(0, 0, 10, 10, 10, 0, 0, 10);
+        EvenClock clock = Clocks.of(0, 0, 10, 10, 10, 0, 0, 10);
         clock.build(0);
-        children("ties", clock, 4, 0, 2);
-        children("ties", clock, 5, 1, 3);
-        children("ties", clock, 6, 4, 5);
-        parts("the square's middle", clock, 6, 4, 5, -1, 10240, 10240, 0, 0, 10240, 10240, 10240, 0);
-        EvenClock row = clockOf(20, 0, 10, 0, 0, 0);
+        CHECK.parts("ties", clock, 4, 0, 2);
+        CHECK.parts("ties", clock, 5, 1, 3);
+        CHECK.parts("ties", clock, 6, 4, 5);
+        CHECK.parts("the square's middle", clock, 6,
+                4, 5, -1, 10240, 10240, 0, 0, 10240, 10240, 10240, 0);
+        EvenClock row = Clocks.of(20, 0, 10, 0, 0, 0);
         row.build(0);
-        children("a row's ties", row, 3, 0, 1);
-        children("a row's ties", row, 4, 2, 3);
+        CHECK.parts("a row's ties", row, 3, 0, 1);
+        CHECK.parts("a row's ties", row, 4, 2, 3);
     }
 
     private static void nearestMayMeet() {
-        EvenClock clock = clockOf(5, 5, 5, 5, 5, 5);
+        EvenClock clock = Clocks.of(5, 5, 5, 5, 5, 5);
         clock.build(0);
-        children("at one place", clock, 3, 0, 1);
-        children("at one place", clock, 4, 2, 3);
+        CHECK.parts("at one place", clock, 3, 0, 1);
+        CHECK.parts("at one place", clock, 4, 2, 3);
         CHECK.same("time of sinks at one place", 0, clock.node(4, 7));
         CHECK.same("only the wire from the source", 10240, clock.length());
     }
 
     // Terms, BY WAY 1: of five the first three by x, of which the first two by y.
     private static void halves() {
-        EvenClock clock = clockOf(50, 0, 10, 9, 20, 3, 30, 6, 40, 8);
+        EvenClock clock = Clocks.of(50, 0, 10, 9, 20, 3, 30, 6, 40, 8);
         clock.build(1);
-        children("first half's half", clock, 5, 2, 3);
-        children("first half", clock, 6, 5, 1);
-        children("rest", clock, 7, 0, 4);
-        children("all", clock, 8, 6, 7);
+        CHECK.parts("first half's half", clock, 5, 2, 3);
+        CHECK.parts("first half", clock, 6, 5, 1);
+        CHECK.parts("rest", clock, 7, 0, 4);
+        CHECK.parts("all", clock, 8, 6, 7);
         CHECK.same("its parent", 8, clock.node(7, 2));
     }
 
     private static void halvesTies() {
-        EvenClock sameX = clockOf(5, 9, 5, 1, 5, 1, 5, 4);
+        EvenClock sameX = Clocks.of(5, 9, 5, 1, 5, 1, 5, 4);
         sameX.build(1);
-        children("same x, so by y, so by number", sameX, 4, 1, 2);
-        children("then the rest", sameX, 5, 3, 0);
-        EvenClock sameY = clockOf(1, 7, 0, 7, 50, 2, 49, 2);
+        CHECK.parts("same x, so by y, so by number", sameX, 4, 1, 2);
+        CHECK.parts("then the rest", sameX, 5, 3, 0);
+        EvenClock sameY = Clocks.of(1, 7, 0, 7, 50, 2, 49, 2);
         sameY.build(1);
-        children("same y, so by x", sameY, 4, 1, 0);
-        children("same y in the rest", sameY, 5, 3, 2);
+        CHECK.parts("same y, so by x", sameY, 4, 1, 0);
+        CHECK.parts("same y in the rest", sameY, 5, 3, 2);
     }
 
     // 10 is cut to 5 and 5, these to 3 and 2, the 3 to 2 and 1: every second cut by y.
     private static void halvesOfTen() {
-        EvenClock clock = clockOf(0, 4, 1, 3, 2, 2, 3, 1, 4, 0, 9, 4, 8, 3, 7, 2, 6, 1, 5, 0);
+        EvenClock clock = Clocks.of(0, 4, 1, 3, 2, 2, 3, 1, 4, 0, 9, 4, 8, 3, 7, 2, 6, 1, 5, 0);
         clock.build(1);
         int[][] due = {
             {3, 2}, {10, 4}, {0, 1}, {11, 12}, {9, 8}, {14, 7}, {6, 5}, {15, 16}, {13, 17},
         };
         for (int k = 0; k < due.length; k++) {
-            children("ten by way 1", clock, 10 + k, due[k][0], due[k][1]);
+            CHECK.parts("ten by way 1", clock, 10 + k, due[k][0], due[k][1]);
         }
     }
 
     // The join of 0 and 1 has a time greater than sink 2 is far from its region.
     private static void detourOnTheRight() {
-        EvenClock clock = clockOf(0, 0, 1, 20, 2, 10);
+        EvenClock clock = Clocks.of(0, 0, 1, 20, 2, 10);
         clock.build(1);
-        parts("first half", clock, 3,
+        CHECK.parts("first half", clock, 3,
                 0, 1, 4, 10752, 10752, -10752, -8704, 10752, 0, 10752, -8704);
-        parts("root", clock, 4,
+        CHECK.parts("root", clock, 4,
                 3, 2, -1, 10752, 10752, -10752, -8704, 10752, 10752, 10752, -8704);
         CHECK.same("more wire than the way needs", 10752, clock.node(2, 8));
-        parts("sink 2", clock, 2, -1, -1, 4, 12288, 12288, -8192, -8192, 0, 10752, 12288, -8192);
+        CHECK.parts("sink 2", clock, 2,
+                -1, -1, 4, 12288, 12288, -8192, -8192, 0, 10752, 12288, -8192);
         CHECK.same("length with the detour", 43008, clock.length());
     }
 
     private static void detourOnTheLeft() {
-        EvenClock clock = clockOf(0, 10, 0, 11, 1, 0, 1, 20);
+        EvenClock clock = Clocks.of(0, 10, 0, 11, 1, 0, 1, 20);
         clock.build(1);
-        parts("first half", clock, 4,
+        CHECK.parts("first half", clock, 4,
                 0, 1, 6, 10752, 10752, -10752, -10752, 512, 9728, 10752, -10752);
-        parts("rest", clock, 5,
+        CHECK.parts("rest", clock, 5,
                 2, 3, 6, 11264, 11264, -9216, -9216, 10240, 0, 11264, -9216);
-        parts("root", clock, 6,
+        CHECK.parts("root", clock, 6,
                 4, 5, -1, 11264, 11264, -9216, -9216, 10240, 11264, 11264, -9216);
     }
 
     // Promise 10
     private static void length() {
-        EvenClock clock = pair();
+        EvenClock clock = Clocks.pair();
         CHECK.same("three wires", 6144, clock.length());
         clock.set(2, true);
         CHECK.same("buffers leave it", 6144, clock.length());
         clock.source(2, 0);
         clock.build(0);
         CHECK.same("two wires", 4096, clock.length());
-        EvenClock alone = clockOf(200, 200);
+        EvenClock alone = Clocks.of(200, 200);
         alone.build(0);
         CHECK.same("from corner to corner", 409600, alone.length());
     }
 
     // Promise 11
     private static void depth() {
-        EvenClock clock = clockOf(0, 0, 10, 0, 40, 0, 12, 0);
+        EvenClock clock = Clocks.of(0, 0, 10, 0, 40, 0, 12, 0);
         clock.build(0);
         int[] due = {2, 3, 1, 3};
         for (int k = 0; k < due.length; k++) {
             CHECK.same("depth of " + k, due[k], clock.depth(k));
         }
-        CHECK.fails("depth of -1", INDEX, () -> clock.depth(-1));
-        CHECK.fails("depth of a join", INDEX, () -> clock.depth(4));
+        CHECK.fails("depth of -1", Due.INDEX, () -> clock.depth(-1));
+        CHECK.fails("depth of a join", Due.INDEX, () -> clock.depth(4));
         for (int far : FAR_OFF) {
-            CHECK.fails("depth far off", INDEX, () -> clock.depth(far));
+            CHECK.fails("depth far off", Due.INDEX, () -> clock.depth(far));
         }
-        EvenClock alone = clockOf(1, 1);
+        EvenClock alone = Clocks.of(1, 1);
         alone.build(0);
         CHECK.same("depth of one sink", 0, alone.depth(0));
     }
 
     // Promise 12
     private static void set() {
-        EvenClock clock = clockOf(0, 0, 10, 0, 40, 0, 12, 0);
+        EvenClock clock = Clocks.of(0, 0, 10, 0, 40, 0, 12, 0);
         clock.build(0);
         CHECK.that("taking none away changes nothing", !clock.set(5, false));
         CHECK.that("setting one changes something", clock.set(5, true));
@@ -462,19 +414,19 @@ public final class PromiseTest {
         CHECK.that("taking it away does", clock.set(5, false));
         CHECK.that("taking it away again does not", !clock.set(5, false));
         CHECK.same("one is left", 4, clock.setting());
-        CHECK.fails("a sink", INDEX, () -> clock.set(3, true));
-        CHECK.fails("a sink, off", INDEX, () -> clock.set(0, false));
-        CHECK.fails("beyond the root", INDEX, () -> clock.set(7, true));
-        CHECK.fails("-1", INDEX, () -> clock.set(-1, true));
+        CHECK.fails("a sink", Due.INDEX, () -> clock.set(3, true));
+        CHECK.fails("a sink, off", Due.INDEX, () -> clock.set(0, false));
+        CHECK.fails("beyond the root", Due.INDEX, () -> clock.set(7, true));
+        CHECK.fails("-1", Due.INDEX, () -> clock.set(-1, true));
         for (int far : FAR_OFF) {
-            CHECK.fails("far off", INDEX, () -> clock.set(far, true));
+            CHECK.fails("far off", Due.INDEX, () -> clock.set(far, true));
         }
-        CHECK.fails("32 above a join", INDEX, () -> clock.set(36, true));
+        CHECK.fails("32 above a join", Due.INDEX, () -> clock.set(36, true));
         CHECK.same("wrong ones change nothing", 4, clock.setting());
-        EvenClock alone = clockOf(1, 1);
+        EvenClock alone = Clocks.of(1, 1);
         alone.build(0);
-        CHECK.fails("the root that is a sink", INDEX, () -> alone.set(0, true));
-        CHECK.fails("none beside it", INDEX, () -> alone.set(1, true));
+        CHECK.fails("the root that is a sink", Due.INDEX, () -> alone.set(0, true));
+        CHECK.fails("none beside it", Due.INDEX, () -> alone.set(1, true));
     }
 
     // Promise 13
@@ -500,7 +452,7 @@ public final class PromiseTest {
 
     // Promise 14
     private static void load() {
-        EvenClock clock = clockOf(0, 0, 10, 0, 40, 0, 12, 0);
+        EvenClock clock = Clocks.of(0, 0, 10, 0, 40, 0, 12, 0);
         clock.build(0);
         CHECK.same("a sink bears", 1024, clock.load(0, false));
         CHECK.same("a sink shows", 1024, clock.load(0, true));
@@ -514,16 +466,16 @@ public final class PromiseTest {
         CHECK.same("5 shows its buffer", 2048, clock.load(5, true));
         CHECK.same("6 bears less", 37888, clock.load(6, false));
         CHECK.same("4 shows what it bears", 4096, clock.load(4, true));
-        CHECK.fails("node -1", INDEX, () -> clock.load(-1, true));
-        CHECK.fails("node 7", INDEX, () -> clock.load(7, false));
+        CHECK.fails("node -1", Due.INDEX, () -> clock.load(-1, true));
+        CHECK.fails("node 7", Due.INDEX, () -> clock.load(7, false));
         for (int far : FAR_OFF) {
-            CHECK.fails("node far off", INDEX, () -> clock.load(far, true));
+            CHECK.fails("node far off", Due.INDEX, () -> clock.load(far, true));
         }
     }
 
     // Promise 15
     private static void delay() {
-        EvenClock clock = pair();
+        EvenClock clock = Clocks.pair();
         CHECK.same("left", 71303168L, clock.delay(0));
         CHECK.same("right", 79691776L, clock.delay(1));
         clock.set(2, true);
@@ -531,10 +483,10 @@ public final class PromiseTest {
         CHECK.same("right with a buffer", 33579008L, clock.delay(1));
         clock.set(2, false);
         CHECK.same("without it again", 71303168L, clock.delay(0));
-        CHECK.fails("sink -1", INDEX, () -> clock.delay(-1));
-        CHECK.fails("a join", INDEX, () -> clock.delay(2));
+        CHECK.fails("sink -1", Due.INDEX, () -> clock.delay(-1));
+        CHECK.fails("a join", Due.INDEX, () -> clock.delay(2));
         for (int far : FAR_OFF) {
-            CHECK.fails("sink far off", INDEX, () -> clock.delay(far));
+            CHECK.fails("sink far off", Due.INDEX, () -> clock.delay(far));
         }
         EvenClock alone = new EvenClock();
         alone.sink(1, 0, 2, 0);
@@ -547,7 +499,7 @@ public final class PromiseTest {
 
     // Promise 16
     private static void slack() {
-        EvenClock clock = pair();
+        EvenClock clock = Clocks.pair();
         CHECK.same("the right one's", 25165824L, clock.slack());
         clock.set(2, true);
         CHECK.same("with a buffer", 71278592L, clock.slack());
@@ -564,7 +516,7 @@ public final class PromiseTest {
 
     // Promise 17
     private static void best() {
-        EvenClock clock = pair();
+        EvenClock clock = Clocks.pair();
         CHECK.same("with the buffer", 71278592L, clock.best());
         CHECK.same("the slack stays", 25165824L, clock.slack());
         CHECK.same("the setting stays", 0, clock.setting());
@@ -573,14 +525,14 @@ public final class PromiseTest {
         clock.buffer(1000, 1, 0);
         CHECK.same("now without it", 25165824L, clock.best());
         CHECK.same("it still stands", 1, clock.setting());
-        EvenClock alone = clockOf(1, 0);
+        EvenClock alone = Clocks.of(1, 0);
         alone.build(0);
         CHECK.same("no join", alone.slack(), alone.best());
     }
 
     // Promise 18
     private static void improve() {
-        EvenClock clock = pair();
+        EvenClock clock = Clocks.pair();
         CHECK.same("the buffer helps", 1, clock.improve());
         CHECK.same("and is set", 1, clock.setting());
         CHECK.same("so the slack is the best", 71278592L, clock.slack());
@@ -595,7 +547,8 @@ public final class PromiseTest {
         improveOfSeveralAlike();
     }
 
-    // The buffer at 3 shows just what 3 bears, so the far sink, which decides, feels only the root's.
+    // The buffer at 3 shows just what 3 bears, so the far sink, which decides, feels only the
+    // root's.
     private static void improveOfSeveralAlike() {
         EvenClock clock = new EvenClock();
         clock.source(2, 0);
@@ -603,8 +556,8 @@ public final class PromiseTest {
         clock.sink(2, 0, 1, 1000000);
         clock.sink(100, 100, 1, 0);
         clock.build(0);
-        children("alike", clock, 3, 0, 1);
-        children("alike", clock, 4, 2, 3);
+        CHECK.parts("alike", clock, 3, 0, 1);
+        CHECK.parts("alike", clock, 4, 2, 3);
         clock.buffer(2, 1, 0);
         CHECK.same("the root's buffer is enough", 2, clock.improve());
         long slack = clock.slack();
@@ -615,33 +568,33 @@ public final class PromiseTest {
 
     // Terms, at their end
     private static void treeEnds() {
-        EvenClock bySink = pair();
+        EvenClock bySink = Clocks.pair();
         bySink.sink(1, 1, 1, 1);
-        needsTree("after sink", bySink);
-        EvenClock byCut = pair();
+        CHECK.noTree("after sink", bySink);
+        EvenClock byCut = Clocks.pair();
         byCut.cut(2);
-        needsTree("after a cut of none", byCut);
-        EvenClock bySource = pair();
+        CHECK.noTree("after a cut of none", byCut);
+        EvenClock bySource = Clocks.pair();
         bySource.source(0, 0);
-        needsTree("after the same source", bySource);
+        CHECK.noTree("after the same source", bySource);
         bySource.build(0);
         CHECK.same("built again", 6144, bySource.length());
-        EvenClock byNone = pair();
+        EvenClock byNone = Clocks.pair();
         byNone.wires(2, 2);
         byNone.buffer(2, 2, 2);
         CHECK.same("wires and buffer leave it", 6144, byNone.length());
     }
 
     private static void failureChangesNothing() {
-        EvenClock clock = pair();
+        EvenClock clock = Clocks.pair();
         clock.set(2, true);
-        CHECK.fails("sink", ARGUMENT, () -> clock.sink(0, 0, 0, 0));
-        CHECK.fails("cut", ARGUMENT, () -> clock.cut(3));
-        CHECK.fails("source", ARGUMENT, () -> clock.source(5, 201));
-        CHECK.fails("wires", ARGUMENT, () -> clock.wires(5, 21));
-        CHECK.fails("buffer", ARGUMENT, () -> clock.buffer(5, 5, -1));
-        CHECK.fails("build", ARGUMENT, () -> clock.build(2));
-        CHECK.fails("set", INDEX, () -> clock.set(3, false));
+        CHECK.fails("sink", Due.ARGUMENT, () -> clock.sink(0, 0, 0, 0));
+        CHECK.fails("cut", Due.ARGUMENT, () -> clock.cut(3));
+        CHECK.fails("source", Due.ARGUMENT, () -> clock.source(5, 201));
+        CHECK.fails("wires", Due.ARGUMENT, () -> clock.wires(5, 21));
+        CHECK.fails("buffer", Due.ARGUMENT, () -> clock.buffer(5, 5, -1));
+        CHECK.fails("build", Due.ARGUMENT, () -> clock.build(2));
+        CHECK.fails("set", Due.INDEX, () -> clock.set(3, false));
         CHECK.same("the setting", 1, clock.setting());
         CHECK.same("the delay", 33579008L, clock.delay(1));
         CHECK.same("the sinks", 2, clock.sinks());
@@ -652,7 +605,7 @@ public final class PromiseTest {
             full.sink(k, 0, 1, 0);
         }
         full.build(0);
-        CHECK.fails("an eleventh sink", UNSUPPORTED, () -> full.sink(0, 0, 1, 0));
+        CHECK.fails("an eleventh sink", Due.UNSUPPORTED, () -> full.sink(0, 0, 1, 0));
         CHECK.same("leaves the tree", 1024, full.load(9, true));
     }
 }
