@@ -27,6 +27,7 @@ public final class EmptyTest {
     private static void newObjectsStandApart() {
         CHECK.about("1, No sinks, no tree, whatever stands in another object");
         EvenClock first = Clocks.manyBuilt(10, 0);
+        first.set(12, true);
         EvenClock second = new EvenClock();
         CHECK.same("sinks", 0, second.sinks());
         CHECK.noTree("a second object", second);
@@ -37,7 +38,9 @@ public final class EmptyTest {
         second.sink(8, 8, 8, 8);
         second.build(1);
         second.set(2, true);
+        CHECK.same("the first one's setting", 4, first.setting());
         EvenClock like = Clocks.manyBuilt(10, 0);
+        like.set(12, true);
         CHECK.that("the first one's tree is not as before",
                 Answers.ofTree(like).equals(Answers.ofTree(first)));
         CHECK.that("the first one's loads and delays are not as before",

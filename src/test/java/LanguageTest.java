@@ -11,19 +11,27 @@ public final class LanguageTest {
     private static final Check CHECK = new Check("LanguageTest");
     private static final Path SOURCE = Path.of("src/main/java/EvenClock.java");
     private static final String[] RULED_OUT = {
-        "->", "::", "\\btry\\b", "\\bcatch\\b", "\\bfinally\\b", "\\bassert\\b", "\\bsynchronized\\b",
+        "->", "::", "\\btry\\b", "\\bcatch\\b", "\\bfinally\\b", "\\bassert\\b",
+        "\\bsynchronized\\b",
         "\\bpackage\\b", "\\bstatic\\s*\\{", "\\bSystem\\.(?!arraycopy)", "\\bThread\\b",
-        "\\bRandom\\b", "\\bObject\\b", "\\w+Exact\\b", "\\bdouble\\b", "\\bfloat\\b", "\\[\\]\\[\\]\\[\\]",
+        "\\bRandom\\b", "\\bObject\\b", "\\w+Exact\\b", "\\bdouble\\b", "\\bfloat\\b",
+        "\\[\\]\\[\\]\\[\\]",
     };
-    private static final Pattern METHOD =
-            Pattern.compile("^( +)(?!.*\\b(?:class|new|return|throw)\\b)[\\w\\[\\] ]+\\(([^)]*)\\).*");
+    private static final Pattern METHOD = Pattern.compile(
+            "^( +)(?!.*\\b(?:class|new|return|throw)\\b)[\\w\\[\\] ]+\\(([^)]*)\\).*");
+    private static final Pattern MADE = Pattern.compile("\\bnew\\b");
+    private static final Pattern ROW =
+            Pattern.compile("\\bfinal (int|long)(\\[\\])+ \\w+ = new ");
+    private static final Pattern FIELD =
+            Pattern.compile("^ {8}(pins|tree|circuit) = new \\w+\\(\\);");
 
     public static void main(String[] args) throws IOException {
         List<String> lines = withoutComments(Files.readAllLines(SOURCE));
         imports(lines);
         for (String line : lines) {
             for (String pattern : RULED_OUT) {
-                CHECK.that("ruled out: " + line.trim(), !Pattern.compile(pattern).matcher(line).find());
+                boolean found = Pattern.compile(pattern).matcher(line).find();
+                CHECK.that("ruled out: " + line.trim(), !found);
             }
             objectsOnlyFromConstructors(line);
         }
@@ -35,7 +43,8 @@ public final class LanguageTest {
         List<String> kept = new ArrayList<>();
         for (String line : lines) {
             String start = line.trim();
-            boolean comment = start.startsWith("//") || start.startsWith("/*") || start.startsWith("*");
+            boolean comment =
+                    start.startsWith("//") || start.startsWith("/*") || start.startsWith("*");
             kept.add(comment ? "" : line);
         }
         return kept;
@@ -50,11 +59,10 @@ public final class LanguageTest {
 
     /** All calls of a run live in one room, so a call makes nothing but what it throws. */
     private static void objectsOnlyFromConstructors(String line) {
-        if (Pattern.compile("\\bnew\\b").matcher(line).find()) {
+        if (MADE.matcher(line).find()) {
             boolean thrown = line.trim().startsWith("throw new ");
-            boolean row = Pattern.compile("\\bfinal (int|long)(\\[\\])+ \\w+ = new ").matcher(line).find();
-            boolean part = Pattern.compile("^ {8}(pins|tree|circuit) = new \\w+\\(\\);").matcher(line).find();
-            CHECK.that("makes an object in a call: " + line.trim(), thrown || row || part);
+            boolean kept = ROW.matcher(line).find() || FIELD.matcher(line).find();
+            CHECK.that("makes an object in a call: " + line.trim(), thrown || kept);
         }
     }
 
@@ -74,7 +82,8 @@ public final class LanguageTest {
                 end++;
             }
             CHECK.that("long: " + lines.get(k).trim(), end - k <= 60);
-            CHECK.that("many parameters: " + lines.get(k).trim(), head.group(2).split(",").length <= 7);
+            int parameters = head.group(2).split(",").length;
+            CHECK.that("many parameters: " + lines.get(k).trim(), parameters <= 7);
         }
         CHECK.that("only " + seen + " methods were found", seen > 40);
     }

@@ -15,6 +15,7 @@ public final class NoTreeTest {
             }
         }
         endedTwice();
+        nothingElseEnds();
         builtAnew();
         CHECK.end();
     }
@@ -71,15 +72,22 @@ public final class NoTreeTest {
         CHECK.about("Terms, sink, cut and source end the tree, and no other call");
         EvenClock clock = Clocks.manyBuilt(sinks, way);
         int length = clock.length();
+        int setting = (1 << (sinks - 1)) - 1;
+        for (int join = sinks; join < 2 * sinks - 1; join++) {
+            clock.set(join, true);
+        }
         clock.wires(20, 20);
         CHECK.same("length behind wires", length, clock.length());
+        CHECK.same("setting behind wires", setting, clock.setting());
         clock.buffer(1000, 1000, 1000);
         CHECK.same("length behind buffer", length, clock.length());
+        CHECK.same("setting behind buffer", setting, clock.setting());
         clock.best();
-        clock.improve();
         clock.slack();
         clock.sinks();
-        CHECK.same("length behind best, improve, slack and sinks", length, clock.length());
+        CHECK.same("setting behind best, slack and sinks", setting, clock.setting());
+        clock.improve();
+        CHECK.same("length behind improve", length, clock.length());
         CHECK.fails("cut", Due.ARGUMENT, () -> clock.cut(sinks + 1));
         CHECK.fails("sink", Due.ARGUMENT, () -> clock.sink(201, 0, 1, 0));
         CHECK.fails("source", Due.ARGUMENT, () -> clock.source(0, 201));
@@ -96,6 +104,36 @@ public final class NoTreeTest {
         CHECK.noTree("ended by all three", clock);
         CHECK.same("built again", 7, clock.build(0));
         CHECK.passes("the tree", clock::length);
+    }
+
+    /** What is ended is the tree alone: a clock that was told the same otherwise is no other. */
+    private static void nothingElseEnds() {
+        CHECK.about("Terms, sink, cut and source end the tree, and change nothing else");
+        EvenClock clock = told(Clocks.manyBuilt(5, 0));
+        clock.build(0);
+        clock.sink(1, 1, 1, 1);
+        clock.build(0);
+        clock.cut(0);
+        clock.cut(0);
+        for (int k = 0; k < 3; k++) {
+            clock.sink(9 * k, 4 * k, 3, 50);
+        }
+        clock.build(1);
+        EvenClock like = told(new EvenClock());
+        for (int k = 0; k < 3; k++) {
+            like.sink(9 * k, 4 * k, 3, 50);
+        }
+        like.build(1);
+        CHECK.that("the source was lost", Answers.ofTree(like).equals(Answers.ofTree(clock)));
+        CHECK.that("the wires were lost", Answers.ofCircuit(like).equals(Answers.ofCircuit(clock)));
+        CHECK.that("the buffer was lost", Answers.ofLater(like).equals(Answers.ofLater(clock)));
+    }
+
+    private static EvenClock told(EvenClock clock) {
+        clock.source(20, 7);
+        clock.wires(2, 3);
+        clock.buffer(4, 5, 6);
+        return clock;
     }
 
     private static void builtAnew() {

@@ -1,6 +1,7 @@
 import java.util.ArrayList;
 import java.util.Comparator;
 import java.util.List;
+import java.util.NoSuchElementException;
 
 /**
  * The document's Terms said a second time, as plainly as the whole library allows and with nothing
@@ -86,17 +87,71 @@ final class PlainClock {
         }
     }
 
-    final List<Sink> sinks = new ArrayList<>();
-    final List<Node> nodes = new ArrayList<>();
-    int sourceX;
-    int sourceY;
-    int r = 1;
-    int c = 1;
-    int input = 1;
-    int drive = 1;
-    int hold;
+    private final List<Sink> sinks = new ArrayList<>();
+    /** Empty when there is no tree. */
+    private final List<Node> nodes = new ArrayList<>();
+    private int sourceX;
+    private int sourceY;
+    private int r = 1;
+    private int c = 1;
+    private int input = 1;
+    private int drive = 1;
+    private int hold;
+    private int setting;
+
+    int sink(int x, int y, int load, int need) {
+        asSaid(x, 0, 200);
+        asSaid(y, 0, 200);
+        asSaid(load, 1, 100);
+        asSaid(need, 0, 1000000000);
+        if (sinks.size() == 10) {
+            throw new UnsupportedOperationException();
+        }
+        nodes.clear();
+        sinks.add(new Sink(sinks.size(), x, y, load, need));
+        return sinks.size() - 1;
+    }
+
+    void cut(int n) {
+        asSaid(n, 0, sinks.size());
+        nodes.clear();
+        sinks.subList(n, sinks.size()).clear();
+    }
+
+    void source(int x, int y) {
+        asSaid(x, 0, 200);
+        asSaid(y, 0, 200);
+        nodes.clear();
+        sourceX = x;
+        sourceY = y;
+    }
+
+    void wires(int resistance, int capacity) {
+        asSaid(resistance, 1, 20);
+        asSaid(capacity, 1, 20);
+        r = resistance;
+        c = capacity;
+    }
+
+    void buffer(int newInput, int newDrive, int newDelay) {
+        asSaid(newInput, 1, 1000000);
+        asSaid(newDrive, 1, 1000);
+        asSaid(newDelay, 0, 1000000000);
+        input = newInput;
+        drive = newDrive;
+        hold = newDelay;
+    }
+
+    int sinks() {
+        return sinks.size();
+    }
 
     int build(int way) {
+        asSaid(way, 0, 1);
+        if (sinks.isEmpty()) {
+            throw new NoSuchElementException();
+        }
+        setting = 0;
         nodes.clear();
         for (Sink sink : sinks) {
             nodes.add(new Node(sink));
@@ -109,6 +164,87 @@ final class PlainClock {
         root().wire = Math.max(Math.abs(placeU(root()) - sourceU()),
                 Math.abs(placeV(root()) - sourceV()));
         return nodes.size();
+    }
+
+    boolean hasTree() {
+        return !nodes.isEmpty();
+    }
+
+    int node(int k, int part) {
+        needTree();
+        oneOf(k, 0, nodes.size());
+        oneOf(part, 0, 11);
+        return part(nodes.get(k), part);
+    }
+
+    int length() {
+        needTree();
+        return nodes.stream().mapToInt(node -> node.wire).sum();
+    }
+
+    int depth(int sink) {
+        needTree();
+        oneOf(sink, 0, sinks.size());
+        return depth(nodes.get(sink));
+    }
+
+    boolean set(int join, boolean on) {
+        needTree();
+        oneOf(join, sinks.size(), nodes.size());
+        boolean changes = hasBuffer(nodes.get(join), setting) != on;
+        setting ^= changes ? 1 << (join - sinks.size()) : 0;
+        return changes;
+    }
+
+    int setting() {
+        needTree();
+        return setting;
+    }
+
+    long load(int k, boolean shown) {
+        needTree();
+        oneOf(k, 0, nodes.size());
+        return shown ? shows(nodes.get(k), setting) : bears(nodes.get(k), setting);
+    }
+
+    long delay(int sink) {
+        needTree();
+        oneOf(sink, 0, sinks.size());
+        return delay(nodes.get(sink), setting);
+    }
+
+    long slack() {
+        needTree();
+        return slack(setting);
+    }
+
+    long best() {
+        needTree();
+        return slack(bestSetting());
+    }
+
+    int improve() {
+        needTree();
+        setting = bestSetting();
+        return setting;
+    }
+
+    private static void asSaid(int number, int least, int most) {
+        if (number < least || number > most) {
+            throw new IllegalArgumentException();
+        }
+    }
+
+    private void needTree() {
+        if (!hasTree()) {
+            throw new IllegalStateException();
+        }
+    }
+
+    private static void oneOf(int number, int first, int end) {
+        if (number < first || number >= end) {
+            throw new IndexOutOfBoundsException();
+        }
     }
 
     private void joinNearest() {
@@ -166,16 +302,15 @@ final class PlainClock {
         return 1024 * (sourceX - sourceY);
     }
 
-    int placeU(Node node) {
+    private int placeU(Node node) {
         return node.u.nearestTo(node.parent == null ? sourceU() : placeU(node.parent));
     }
 
-    int placeV(Node node) {
+    private int placeV(Node node) {
         return node.v.nearestTo(node.parent == null ? sourceV() : placeV(node.parent));
     }
 
-    int part(int k, int part) {
-        Node node = nodes.get(k);
+    private int part(Node node, int part) {
         return switch (part) {
             case 0 -> numberOf(node.left);
             case 1 -> numberOf(node.right);
@@ -195,50 +330,50 @@ final class PlainClock {
         return node == null ? -1 : node.number;
     }
 
-    int length() {
-        return nodes.stream().mapToInt(node -> node.wire).sum();
-    }
-
-    int depth(Node node) {
+    private static int depth(Node node) {
         return node.parent == null ? 0 : 1 + depth(node.parent);
     }
 
-    private boolean hasBuffer(Node node, int setting) {
-        return node.sink == null && (setting & 1 << (node.number - sinks.size())) != 0;
+    private boolean hasBuffer(Node node, int buffered) {
+        return node.sink == null && (buffered & 1 << (node.number - sinks.size())) != 0;
     }
 
-    long bears(Node node, int setting) {
+    private long bears(Node node, int buffered) {
         if (node.sink != null) {
             return 1024L * node.sink.load;
         }
-        return shows(node.left, setting) + (long) c * node.left.wire
-                + shows(node.right, setting) + (long) c * node.right.wire;
+        return shows(node.left, buffered) + (long) c * node.left.wire
+                + shows(node.right, buffered) + (long) c * node.right.wire;
     }
 
-    long shows(Node node, int setting) {
-        return hasBuffer(node, setting) ? 1024L * input : bears(node, setting);
+    private long shows(Node node, int buffered) {
+        return hasBuffer(node, buffered) ? 1024L * input : bears(node, buffered);
     }
 
-    long delay(Node node, int setting) {
+    private long delay(Node node, int buffered) {
         long wire = node.wire;
-        long sum = r * wire * (c * wire + 2 * shows(node, setting));
-        if (hasBuffer(node, setting)) {
-            sum += hold + 2L * drive * bears(node, setting);
+        long sum = r * wire * (c * wire + 2 * shows(node, buffered));
+        if (hasBuffer(node, buffered)) {
+            sum += hold + 2L * drive * bears(node, buffered);
         }
-        return node.parent == null ? sum : sum + delay(node.parent, setting);
+        return node.parent == null ? sum : sum + delay(node.parent, buffered);
     }
 
-    long slack(int setting) {
+    private long slack(int buffered) {
         return sinks.stream()
-                .mapToLong(sink -> 1048576L * sink.need - delay(nodes.get(sink.number), setting))
+                .mapToLong(sink -> 1048576L * sink.need - delay(nodes.get(sink.number), buffered))
                 .min().getAsLong();
     }
 
-    int bestSetting() {
+    /** Tried from the greatest number down, so that of several as good the least stays. */
+    private int bestSetting() {
         int best = 0;
-        for (int setting = (1 << (sinks.size() - 1)) - 1; setting >= 0; setting--) {
-            if (slack(setting) >= slack(best)) {
-                best = setting;
+        long greatest = Long.MIN_VALUE;
+        for (int tried = (1 << (sinks.size() - 1)) - 1; tried >= 0; tried--) {
+            long reached = slack(tried);
+            if (reached >= greatest) {
+                greatest = reached;
+                best = tried;
             }
         }
         return best;

@@ -1,12 +1,28 @@
 import java.util.Random;
+import java.util.function.Supplier;
 
 /**
- * Many runs of calls, the same ones each time, held against PlainClock. A run makes more calls than
- * the 512 that the document speaks of: nothing in the program counts them.
+ * Many runs of 512 calls, the same ones each time, right and wrong ones, held against PlainClock:
+ * each answers or throws the same. More than 512 calls the document does not speak of.
  */
 public final class PlainClockTest {
     private static final Check CHECK = new Check("PlainClockTest");
     private static final int RUNS = 1500;
+    private static final int CALLS = 512;
+    /** Small fields bring sinks at one place, ties and detours; large ones the greatest numbers. */
+    private static final int[] FIELDS = {0, 1, 2, 5, 12, 40, 200};
+
+    private final int run;
+    private final Random random;
+    private final int field;
+    private final EvenClock clock = new EvenClock();
+    private final PlainClock plain = new PlainClock();
+
+    private PlainClockTest(int run) {
+        this.run = run;
+        random = new Random(run);
+        field = FIELDS[run % FIELDS.length];
+    }
 
     public static void main(String[] args) {
         for (int run = 0; run < RUNS; run++) {
@@ -15,146 +31,148 @@ public final class PlainClockTest {
         CHECK.end();
     }
 
-    private final int run;
-    private final Random random;
-    private final EvenClock clock = new EvenClock();
-    private final PlainClock plain = new PlainClock();
-    /** Small fields bring sinks at one place, ties and detours; large ones the greatest numbers. */
-    private final int field;
-    private int setting;
-
-    private PlainClockTest(int run) {
-        this.run = run;
-        random = new Random(run);
-        int[] fields = {0, 2, 5, 12, 40, 200};
-        field = fields[run % fields.length];
-    }
-
     private void play() {
-        for (int round = 0; round < 4; round++) {
-            changeSinks();
-            changeRest();
-            same("build", plain.build(round % 2), clock.build(round % 2));
-            setting = 0;
-            lookAtTree();
-            wiresAreEven();
-            lookAtCircuit();
-            for (int k = 0; k < 4; k++) {
+        for (int call = 0; call < CALLS; call++) {
+            boolean seeksTree = !plain.hasTree() && random.nextInt(10) > 0;
+            int chosen = random.nextInt(1000);
+            if (seeksTree || chosen < 30) {
+                makeReady();
+            } else if (chosen < 250) {
                 changeCircuit();
+            } else if (chosen < 600) {
+                lookAtTree();
+            } else if (chosen < 990) {
                 lookAtCircuit();
-            }
-            if (round < 2) {
+            } else {
                 lookForBest();
             }
         }
     }
 
-    private void same(String what, long due, long got) {
-        CHECK.same("run " + run + ": " + what, due, got);
+    private void makeReady() {
+        int chosen = random.nextInt(100);
+        if (chosen < 55) {
+            addSink();
+        } else if (chosen < 65) {
+            int n = near(0, plain.sinks());
+            same("cut(" + n + ")", done(() -> plain.cut(n)), done(() -> clock.cut(n)));
+        } else if (chosen < 75) {
+            int x = near(0, 200);
+            int y = near(0, 200);
+            same("source(" + x + ", " + y + ")",
+                    done(() -> plain.source(x, y)), done(() -> clock.source(x, y)));
+        } else {
+            int way = near(0, 1);
+            same("build(" + way + ")", () -> plain.build(way), () -> clock.build(way));
+        }
     }
 
-    private void changeSinks() {
-        int kept = random.nextInt(plain.sinks.size() + 1);
-        clock.cut(kept);
-        plain.sinks.subList(kept, plain.sinks.size()).clear();
-        int wanted = Math.max(kept, 1 + random.nextInt(10));
-        while (plain.sinks.size() < wanted) {
-            int x = random.nextInt(field + 1);
-            int y = random.nextInt(field + 1);
-            int load = 1 + random.nextInt(100);
-            int need = random.nextBoolean() ? random.nextInt(1000) : random.nextInt(1000000001);
-            int number = plain.sinks.size();
-            plain.sinks.add(new PlainClock.Sink(number, x, y, load, need));
-            same("sink", number, clock.sink(x, y, load, need));
-        }
-        same("sinks", plain.sinks.size(), clock.sinks());
-    }
-
-    private void changeRest() {
-        if (random.nextBoolean()) {
-            plain.sourceX = random.nextInt(201);
-            plain.sourceY = random.nextInt(201);
-            clock.source(plain.sourceX, plain.sourceY);
-        }
+    private void addSink() {
+        boolean wild = random.nextInt(8) == 0;
+        int x = wild ? near(0, 200) : random.nextInt(field + 1);
+        int y = wild ? near(0, 200) : random.nextInt(field + 1);
+        int load = near(1, random.nextBoolean() ? 4 : 100);
+        int need = near(0, random.nextBoolean() ? 1000 : 1000000000);
+        same("sink(" + x + ", " + y + ", " + load + ", " + need + ")",
+                () -> plain.sink(x, y, load, need), () -> clock.sink(x, y, load, need));
     }
 
     private void changeCircuit() {
-        if (random.nextBoolean()) {
-            plain.r = 1 + random.nextInt(20);
-            plain.c = 1 + random.nextInt(20);
-            clock.wires(plain.r, plain.c);
-        }
-        if (random.nextBoolean()) {
-            plain.input = 1 + random.nextInt(random.nextBoolean() ? 100 : 1000000);
-            plain.drive = 1 + random.nextInt(random.nextBoolean() ? 10 : 1000);
-            plain.hold = random.nextInt(random.nextBoolean() ? 1000 : 1000000001);
-            clock.buffer(plain.input, plain.drive, plain.hold);
-        }
-        int joins = plain.sinks.size() - 1;
-        for (int k = 0; k < joins; k++) {
-            int join = plain.sinks.size() + random.nextInt(joins);
-            int bit = 1 << (join - plain.sinks.size());
+        int chosen = random.nextInt(4);
+        if (chosen == 0) {
+            int r = near(1, 20);
+            int c = near(1, 20);
+            same("wires(" + r + ", " + c + ")",
+                    done(() -> plain.wires(r, c)), done(() -> clock.wires(r, c)));
+        } else if (chosen == 1) {
+            int input = near(1, random.nextBoolean() ? 100 : 1000000);
+            int drive = near(1, random.nextBoolean() ? 10 : 1000);
+            int delay = near(0, random.nextBoolean() ? 1000 : 1000000000);
+            same("buffer(" + input + ", " + drive + ", " + delay + ")",
+                    done(() -> plain.buffer(input, drive, delay)),
+                    done(() -> clock.buffer(input, drive, delay)));
+        } else {
+            int join = near(plain.sinks(), 2 * plain.sinks() - 2);
             boolean on = random.nextBoolean();
-            boolean changes = (setting & bit) != 0 != on;
-            setting = on ? setting | bit : setting & ~bit;
-            same("set", changes ? 1 : 0, clock.set(join, on) ? 1 : 0);
+            same("set(" + join + ", " + on + ")",
+                    () -> plain.set(join, on), () -> clock.set(join, on));
         }
     }
 
     private void lookAtTree() {
-        for (int k = 0; k < plain.nodes.size(); k++) {
-            for (int part = 0; part < 11; part++) {
-                same("node(" + k + ", " + part + ")", plain.part(k, part), clock.node(k, part));
-            }
-        }
-        for (int k = 0; k < plain.sinks.size(); k++) {
-            same("depth(" + k + ")", plain.depth(plain.nodes.get(k)), clock.depth(k));
-        }
-        same("length", plain.length(), clock.length());
-    }
-
-    /** What the tree is for: as much wire to every sink, and enough of it to reach each place. */
-    private void wiresAreEven() {
-        int root = 2 * clock.sinks() - 2;
-        for (int sink = 0; sink < clock.sinks(); sink++) {
-            int way = 0;
-            for (int k = sink; k != root; k = clock.node(k, 2)) {
-                way += clock.node(k, 8);
-            }
-            same("wire from the root to " + sink, clock.node(root, 7), way);
-        }
-        for (int k = 0; k < root; k++) {
-            int parent = clock.node(k, 2);
-            int apart = Math.max(Math.abs(clock.node(k, 9) - clock.node(parent, 9)),
-                    Math.abs(clock.node(k, 10) - clock.node(parent, 10)));
-            CHECK.that("run " + run + ": the wire above " + k + " is too short",
-                    apart <= clock.node(k, 8));
-        }
-        for (int k = 0; k <= root; k++) {
-            CHECK.that("run " + run + ": the region of " + k + " is empty",
-                    clock.node(k, 3) <= clock.node(k, 4) && clock.node(k, 5) <= clock.node(k, 6));
+        int chosen = random.nextInt(20);
+        if (chosen == 0) {
+            same("sinks()", plain::sinks, clock::sinks);
+        } else if (chosen == 1) {
+            same("length()", plain::length, clock::length);
+        } else if (chosen < 4) {
+            int sink = near(0, plain.sinks() - 1);
+            same("depth(" + sink + ")", () -> plain.depth(sink), () -> clock.depth(sink));
+        } else {
+            int k = near(0, 2 * plain.sinks() - 2);
+            int part = near(0, 10);
+            same("node(" + k + ", " + part + ")",
+                    () -> plain.node(k, part), () -> clock.node(k, part));
         }
     }
 
     private void lookAtCircuit() {
-        same("setting", setting, clock.setting());
-        for (PlainClock.Node node : plain.nodes) {
-            int k = node.number;
-            same("load(" + k + ", false)", plain.bears(node, setting), clock.load(k, false));
-            same("load(" + k + ", true)", plain.shows(node, setting), clock.load(k, true));
+        int chosen = random.nextInt(10);
+        if (chosen == 0) {
+            same("setting()", plain::setting, clock::setting);
+        } else if (chosen < 3) {
+            same("slack()", plain::slack, clock::slack);
+        } else if (chosen < 6) {
+            int sink = near(0, plain.sinks() - 1);
+            same("delay(" + sink + ")", () -> plain.delay(sink), () -> clock.delay(sink));
+        } else {
+            int k = near(0, 2 * plain.sinks() - 2);
+            boolean shown = random.nextBoolean();
+            same("load(" + k + ", " + shown + ")",
+                    () -> plain.load(k, shown), () -> clock.load(k, shown));
         }
-        for (int k = 0; k < plain.sinks.size(); k++) {
-            same("delay(" + k + ")", plain.delay(plain.nodes.get(k), setting), clock.delay(k));
-        }
-        same("slack", plain.slack(setting), clock.slack());
     }
 
     private void lookForBest() {
-        int best = plain.bestSetting();
-        same("best", plain.slack(best), clock.best());
-        lookAtCircuit();
-        setting = best;
-        same("improve", best, clock.improve());
-        lookAtCircuit();
+        if (random.nextBoolean()) {
+            same("best()", plain::best, clock::best);
+        } else {
+            same("improve()", plain::improve, clock::improve);
+        }
+    }
+
+    /** Mostly a number from least to most, often one at an end, seldom one beyond. */
+    private int near(int least, int most) {
+        int chosen = random.nextInt(40);
+        if (chosen == 0) {
+            int[] beyond = {least - 1, most + 1, Integer.MIN_VALUE, Integer.MAX_VALUE};
+            return beyond[random.nextInt(beyond.length)];
+        }
+        if (chosen < 5 || most <= least) {
+            return random.nextBoolean() ? least : most;
+        }
+        return least + random.nextInt(most - least + 1);
+    }
+
+    private static Supplier<Object> done(Runnable call) {
+        return () -> {
+            call.run();
+            return "done";
+        };
+    }
+
+    private void same(String what, Supplier<Object> due, Supplier<Object> got) {
+        Object answerDue = answer(due);
+        Object answer = answer(got);
+        CHECK.that("run " + run + ": " + what + " answered " + answer + ", due is " + answerDue,
+                answerDue.equals(answer));
+    }
+
+    private static Object answer(Supplier<Object> call) {
+        try {
+            return call.get();
+        } catch (RuntimeException e) {
+            return e.getClass();
+        }
     }
 }

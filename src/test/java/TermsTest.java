@@ -10,6 +10,7 @@ public final class TermsTest {
         rightTimeTheGreater();
         detourByWay0();
         regionsThatTouch();
+        regionsApart();
         sameDistance();
         sameDistanceWithJoins();
         leastDistanceFirst();
@@ -20,7 +21,9 @@ public final class TermsTest {
         cutsByTurns();
         sourceInRootRegion();
         sourceOutsideRootRegion();
+        sourceOutsideWideRegion();
         placesNearestToParent();
+        whatIsShown();
         leastSlackOfSinks();
         bufferThatIsJustAsGood();
         sameSlackWithoutAndWith();
@@ -46,8 +49,26 @@ public final class TermsTest {
         CHECK.joins("one between them by number", apart, 0, 2, 1, 3);
     }
 
-    /** The wires above both children, then the root's region and time. */
-    private static void joined(String what, EvenClock clock, int... due) {
+    /**
+     * By way 1: the wires above the root's children, left and right, then U1, U2, V1, V2 and time
+     * of the root. The same sinks with 20 - y for y have u and v changed about.
+     */
+    private static void joined(String what, int[] xy, int... due) {
+        int far = 20 * 1024;
+        rootIs(what, Clocks.built(1, xy), due);
+        rootIs(what + ", mirrored", Clocks.built(1, mirrored(xy)), due[0], due[1],
+                due[4] + far, due[5] + far, due[2] - far, due[3] - far, due[6]);
+    }
+
+    private static int[] mirrored(int... xy) {
+        int[] turned = xy.clone();
+        for (int k = 1; k < turned.length; k += 2) {
+            turned[k] = 20 - turned[k];
+        }
+        return turned;
+    }
+
+    private static void rootIs(String what, EvenClock clock, int... due) {
         int root = 2 * clock.sinks() - 2;
         CHECK.same(what + ": above left", due[0], clock.node(clock.node(root, 0), 8));
         CHECK.same(what + ": above right", due[1], clock.node(clock.node(root, 1), 8));
@@ -58,55 +79,53 @@ public final class TermsTest {
 
     // 0 and 1 are joined with u 5120, v -5120 to -3072 and time 5120; 2 is 6144, 5120, 4096 off.
     private static void leftTimeAndNoRightOne() {
-        EvenClock less = Clocks.built(1, 0, 0, 1, 9, 2, 9);
         CHECK.about("Terms, If s is greater than d + t: just not");
-        CHECK.joins("the first two", less, 0, 1, 3, 2);
-        joined("s less", less, 512, 5632, 5632, 5632, -5632, -2560, 5632);
+        joined("s less", new int[] {0, 0, 1, 9, 2, 9},
+                512, 5632, 5632, 5632, -5632, -2560, 5632);
         CHECK.about("Terms, If s is greater than d + t: just equal");
-        joined("s equal", Clocks.built(1, 0, 0, 1, 9, 2, 8),
+        joined("s equal", new int[] {0, 0, 1, 9, 2, 8},
                 0, 5120, 5120, 5120, -5120, -3072, 5120);
         CHECK.about("Terms, If s is greater than d + t: just greater");
-        joined("s greater", Clocks.built(1, 0, 0, 1, 9, 2, 7),
+        joined("s greater", new int[] {0, 0, 1, 9, 2, 7},
                 0, 5120, 5120, 5120, -5120, -3072, 5120);
     }
 
     // 2 and 3 are joined with u 6144, v -4096 to -2048 and time 5120; 0 and 1 at one place are
     // 6144, 5120, 4096 off.
     private static void rightTimeAndNoLeftOne() {
-        EvenClock less = Clocks.built(1, 0, 0, 0, 0, 1, 0, 2, 9);
         CHECK.about("Terms, if t is greater than d + s: just not");
-        CHECK.joins("two and two", less, 0, 1, 2, 3, 4, 5);
-        joined("t less", less, 5632, 512, 5632, 5632, -4608, -1536, 5632);
+        joined("t less", new int[] {0, 0, 0, 0, 1, 0, 2, 9},
+                5632, 512, 5632, 5632, -4608, -1536, 5632);
         CHECK.about("Terms, if t is greater than d + s: just equal");
-        joined("t equal", Clocks.built(1, 0, 1, 0, 1, 1, 0, 2, 9),
+        joined("t equal", new int[] {0, 1, 0, 1, 1, 0, 2, 9},
                 5120, 0, 6144, 6144, -4096, -2048, 5120);
         CHECK.about("Terms, if t is greater than d + s: just greater");
-        joined("t greater", Clocks.built(1, 0, 2, 0, 2, 1, 0, 2, 9),
+        joined("t greater", new int[] {0, 2, 0, 2, 1, 0, 2, 9},
                 5120, 0, 6144, 6144, -4096, -2048, 5120);
     }
 
-    // As before, but the right side is a join of time 1024.
+    // As before, but the other side is a join of time 1024.
     private static void leftTimeTheGreater() {
         CHECK.about("Terms, If s is greater than d + t, t not being 0: just not");
-        joined("s less", Clocks.built(1, 0, 0, 1, 9, 2, 7, 4, 7),
+        joined("s less", new int[] {0, 0, 1, 9, 2, 7, 4, 7},
                 512, 4608, 5632, 5632, -5632, -2560, 5632);
         CHECK.about("Terms, If s is greater than d + t, t not being 0: just equal");
-        joined("s equal", Clocks.built(1, 0, 0, 1, 9, 2, 6, 4, 6),
+        joined("s equal", new int[] {0, 0, 1, 9, 2, 6, 4, 6},
                 0, 4096, 5120, 5120, -5120, -3072, 5120);
         CHECK.about("Terms, If s is greater than d + t, t not being 0: just greater");
-        joined("s greater", Clocks.built(1, 0, 0, 1, 9, 2, 5, 4, 5),
+        joined("s greater", new int[] {0, 0, 1, 9, 2, 5, 4, 5},
                 0, 4096, 5120, 5120, -5120, -3072, 5120);
     }
 
     private static void rightTimeTheGreater() {
         CHECK.about("Terms, if t is greater than d + s, s not being 0: just not");
-        joined("t less", Clocks.built(1, 0, 0, 0, 2, 1, 0, 2, 9),
+        joined("t less", new int[] {0, 0, 0, 2, 1, 0, 2, 9},
                 4608, 512, 5632, 5632, -4608, -1536, 5632);
         CHECK.about("Terms, if t is greater than d + s, s not being 0: just equal");
-        joined("t equal", Clocks.built(1, 0, 1, 0, 3, 1, 0, 2, 9),
+        joined("t equal", new int[] {0, 1, 0, 3, 1, 0, 2, 9},
                 4096, 0, 6144, 6144, -4096, -2048, 5120);
         CHECK.about("Terms, if t is greater than d + s, s not being 0: just greater");
-        joined("t greater", Clocks.built(1, 0, 2, 0, 4, 1, 0, 2, 9),
+        joined("t greater", new int[] {0, 2, 0, 4, 1, 0, 2, 9},
                 4096, 0, 6144, 6144, -4096, -2048, 5120);
     }
 
@@ -124,7 +143,7 @@ public final class TermsTest {
         CHECK.about("Terms, if t is greater than d + s: just equal, by way 0");
         EvenClock equal = Clocks.built(0, 0, 0, 2, 0, 1, 1);
         CHECK.joins("all as far from each other", equal, 0, 1, 2, 3);
-        joined("t equal", equal, 1024, 0, 1024, 1024, 1024, 1024, 1024);
+        rootIs("t equal", equal, 1024, 0, 1024, 1024, 1024, 1024, 1024);
     }
 
     // Left u 4096 and v -4096 to 4096, right u 4096 to 20480 and v 4096: one place is in both.
@@ -138,6 +157,19 @@ public final class TermsTest {
                 3, 2, 6, 4096, 20480, 4096, 4096, 8192, 0, 4096, 4096);
         CHECK.parts("root", clock, 6,
                 4, 5, -1, 4096, 8192, 4096, 4096, 8192, 4096, 4096, 4096);
+    }
+
+    // By way 0, so that either region is left. 4096 wide each, they are 36864 apart: by v, by u.
+    private static void regionsApart() {
+        CHECK.about("Terms, the greater of the differences of their us and of their vs");
+        rootIs("left lower in v", Clocks.built(0, 0, 20, 2, 22, 20, 0, 22, 2),
+                18432, 18432, 4096, 40960, 0, 0, 20480);
+        rootIs("left higher in v", Clocks.built(0, 20, 0, 22, 2, 0, 20, 2, 22),
+                18432, 18432, 4096, 40960, 0, 0, 20480);
+        rootIs("left lower in u", Clocks.built(0, 0, 2, 2, 0, 20, 22, 22, 20),
+                18432, 18432, 22528, 22528, -18432, 18432, 20480);
+        rootIs("left higher in u", Clocks.built(0, 20, 22, 22, 20, 0, 2, 2, 0),
+                18432, 18432, 22528, 22528, -18432, 18432, 20480);
     }
 
     private static void sameDistance() {
@@ -287,6 +319,56 @@ public final class TermsTest {
         inside.build(1);
         CHECK.same("the root's v, from the source's", -4096, inside.node(4, 10));
         CHECK.same("3's v, from the root's", -4096, inside.node(3, 10));
+        EvenClock wideInU = Clocks.built(1, mirrored(0, 0, 1, 9, 2, 9));
+        CHECK.same("the root's u", 14848, wideInU.node(4, 9));
+        CHECK.same("3's u is at its edge", 15360, wideInU.node(3, 9));
+        wideInU.source(0, 16);
+        wideInU.build(1);
+        CHECK.same("the root's u, from the source's", 16384, wideInU.node(4, 9));
+        CHECK.same("3's u, from the root's", 16384, wideInU.node(3, 9));
+        wideInU.source(100, 100);
+        wideInU.build(1);
+        CHECK.same("the root's u at its other edge", 17920, wideInU.node(4, 9));
+        CHECK.same("3's u at its other edge", 17408, wideInU.node(3, 9));
+    }
+
+    private static void sourceMirrored(int x, int y, int wire, int u, int v) {
+        EvenClock clock = Clocks.of(0, 2, 2, 0);
+        clock.source(x, y);
+        clock.build(0);
+        CHECK.parts("source " + x + ", " + y, clock, 2,
+                0, 1, -1, 0, 4096, 0, 0, 2048, wire, u, v);
+    }
+
+    // The root's region is u 0 to 4096, v 0.
+    private static void sourceOutsideWideRegion() {
+        CHECK.about("Terms, the root stands nearest to the source, inside a region wide in u");
+        sourceMirrored(1, 1, 0, 2048, 0);
+        sourceMirrored(0, 0, 0, 0, 0);
+        sourceMirrored(2, 2, 0, 4096, 0);
+        CHECK.about("Terms, the root stands nearest to the source, outside a region wide in u");
+        sourceMirrored(1, 0, 1024, 1024, 0);
+        sourceMirrored(0, 1, 1024, 1024, 0);
+        sourceMirrored(3, 3, 2048, 4096, 0);
+        sourceMirrored(200, 200, 405504, 4096, 0);
+        sourceMirrored(5, 0, 5120, 4096, 0);
+        sourceMirrored(0, 5, 5120, 4096, 0);
+    }
+
+    // The root bears 12288 and the wire to it is 2048 long.
+    private static void whatIsShown() {
+        CHECK.about("Terms, What a node SHOWS: a join with a buffer 1024 times its input");
+        EvenClock clock = Clocks.pair();
+        clock.set(2, true);
+        for (int input : new int[] {1, 11, 12, 13, 1000000}) {
+            clock.buffer(input, 1, 0);
+            CHECK.same("borne", 12288, clock.load(2, false));
+            CHECK.same("shown with input " + input, 1024L * input, clock.load(2, true));
+        }
+        CHECK.about("Terms, What a node SHOWS: any other node what it bears");
+        CHECK.same("shown by a sink", 5120, clock.load(1, true));
+        clock.set(2, false);
+        CHECK.same("shown without a buffer", 12288, clock.load(2, true));
     }
 
     // The delays 71303168 and 79691776 differ by just 8 * 1048576.
