@@ -40,8 +40,8 @@ public final class PromiseTest {
         CHECK.end();
     }
 
-    // Promise 1
     private static void newObject() {
+        CHECK.about("1, No sinks, no tree");
         EvenClock clock = new EvenClock();
         CHECK.same("a new object's sinks", 0, clock.sinks());
         CHECK.noTree("a new object", clock);
@@ -50,8 +50,8 @@ public final class PromiseTest {
         CHECK.same("another object's sinks", 0, other.sinks());
     }
 
-    // Promise 2
     private static void sink() {
+        CHECK.about("2, A new sink: its number");
         EvenClock clock = new EvenClock();
         CHECK.same("the first sink", 0, clock.sink(0, 0, 1, 0));
         CHECK.same("the second sink", 1, clock.sink(200, 200, 100, 1000000000));
@@ -76,6 +76,7 @@ public final class PromiseTest {
     }
 
     private static void sinkOfTen() {
+        CHECK.about("2, UnsupportedOperationException when there are ten");
         EvenClock clock = new EvenClock();
         for (int k = 0; k < 10; k++) {
             CHECK.same("sink " + k, k, clock.sink(k, 2 * k, 1, 0));
@@ -87,8 +88,8 @@ public final class PromiseTest {
         CHECK.same("the tenth again", 9, clock.sink(0, 0, 1, 0));
     }
 
-    // Promise 3
     private static void cut() {
+        CHECK.about("3, Only the first n sinks stay");
         EvenClock clock = Clocks.of(1, 1, 2, 2, 3, 3);
         CHECK.fails("a negative cut", Due.ARGUMENT, () -> clock.cut(-1));
         CHECK.fails("a cut of too many", Due.ARGUMENT, () -> clock.cut(4));
@@ -111,8 +112,8 @@ public final class PromiseTest {
         CHECK.fails("build after cut(0)", Due.NO_ELEMENT, () -> clock.build(0));
     }
 
-    // Promise 4
     private static void source() {
+        CHECK.about("4, Where the source is");
         EvenClock clock = Clocks.of(3, 5);
         clock.build(0);
         CHECK.same("from 0, 0", 8192, clock.node(0, 8));
@@ -138,8 +139,8 @@ public final class PromiseTest {
         CHECK.same("a cut leaves the source", 0, clock.node(0, 8));
     }
 
-    // Promise 5
     private static void wires() {
+        CHECK.about("5, Resistance and capacity of wires from now on");
         EvenClock clock = Clocks.pair();
         clock.wires(3, 1);
         CHECK.same("resistance 3", 239075328L, clock.delay(1));
@@ -165,8 +166,8 @@ public final class PromiseTest {
         CHECK.same("building leaves the wires", 159383552L, clock.delay(1));
     }
 
-    // Promise 6
     private static void buffer() {
+        CHECK.about("6, The buffer from now on");
         EvenClock clock = Clocks.pair();
         clock.set(2, true);
         CHECK.same("input at first", 1024, clock.load(2, true));
@@ -195,8 +196,8 @@ public final class PromiseTest {
         CHECK.same("the setting stays", 1, clock.setting());
     }
 
-    // Promise 7
     private static void sinks() {
+        CHECK.about("7, How many sinks there are");
         EvenClock clock = new EvenClock();
         for (int k = 0; k < 10; k++) {
             CHECK.same("before sink " + k, k, clock.sinks());
@@ -209,8 +210,8 @@ public final class PromiseTest {
         CHECK.same("after a cut", 4, clock.sinks());
     }
 
-    // Promise 8
     private static void build() {
+        CHECK.about("8, Builds the tree by a way: how many nodes it has");
         EvenClock clock = new EvenClock();
         for (int k = 0; k < 10; k++) {
             clock.sink(7 * k % 10, 3 * k, 1, 0);
@@ -224,6 +225,8 @@ public final class PromiseTest {
     }
 
     private static void buildWrongly() {
+        CHECK.about("8, IllegalArgumentException when way is not 0 or 1;"
+                + " NoSuchElementException when there is no sink");
         EvenClock clock = new EvenClock();
         CHECK.fails("no sink by way 0", Due.NO_ELEMENT, () -> clock.build(0));
         CHECK.fails("no sink by way 1", Due.NO_ELEMENT, () -> clock.build(1));
@@ -237,8 +240,8 @@ public final class PromiseTest {
         CHECK.noTree("after wrong builds", clock);
     }
 
-    // Promise 9
     private static void node() {
+        CHECK.about("9, Of a node: parts 0 to 10");
         EvenClock clock = Clocks.of(0, 0, 2, 2);
         clock.source(10, 0);
         clock.build(0);
@@ -248,6 +251,7 @@ public final class PromiseTest {
     }
 
     private static void nodeOfOneSink() {
+        CHECK.about("9, Of a node: parts 0 to 10, of one sink");
         EvenClock clock = Clocks.of(3, 5);
         clock.build(1);
         CHECK.parts("alone", clock, 0, -1, -1, -1, 8192, 8192, -2048, -2048, 0, 8192, 8192, -2048);
@@ -257,6 +261,7 @@ public final class PromiseTest {
     }
 
     private static void nodeWrongly() {
+        CHECK.about("9, IndexOutOfBoundsException when there is no such node or part");
         EvenClock clock = Clocks.pair();
         CHECK.fails("node -1", Due.INDEX, () -> clock.node(-1, 0));
         CHECK.fails("node 3", Due.INDEX, () -> clock.node(3, 0));
@@ -274,8 +279,9 @@ public final class PromiseTest {
         CHECK.fails("a node of the tree before", Due.INDEX, () -> larger.node(1, 0));
     }
 
-    // Terms, BY WAY 0: the nearest are 1 and 3, then 0 with their join, then 2.
+    // The nearest are 1 and 3, then 0 with their join, then 2.
     private static void nearestPairs() {
+        CHECK.about("8, Builds the tree by a way, BY WAY 0");
         EvenClock clock = Clocks.of(0, 0, 10, 0, 40, 0, 12, 0);
         clock.build(0);
         CHECK.parts("first join", clock, 4,
@@ -290,6 +296,7 @@ public final class PromiseTest {
 
     // Four corners of a square: 0 has two sinks as near, and the lesser number goes first.
     private static void nearestTies() {
+        CHECK.about("8, Builds the tree by a way, BY WAY 0, of several pairs");
         EvenClock clock = Clocks.of(0, 0, 10, 10, 10, 0, 0, 10);
         clock.build(0);
         CHECK.parts("ties", clock, 4, 0, 2);
@@ -304,6 +311,7 @@ public final class PromiseTest {
     }
 
     private static void nearestMayMeet() {
+        CHECK.about("8, Builds the tree by a way, BY WAY 0, at one place");
         EvenClock clock = Clocks.of(5, 5, 5, 5, 5, 5);
         clock.build(0);
         CHECK.parts("at one place", clock, 3, 0, 1);
@@ -312,8 +320,9 @@ public final class PromiseTest {
         CHECK.same("only the wire from the source", 10240, clock.length());
     }
 
-    // Terms, BY WAY 1: of five the first three by x, of which the first two by y.
+    // Of five the first three by x, of which the first two by y.
     private static void halves() {
+        CHECK.about("8, Builds the tree by a way, BY WAY 1");
         EvenClock clock = Clocks.of(50, 0, 10, 9, 20, 3, 30, 6, 40, 8);
         clock.build(1);
         CHECK.parts("first half's half", clock, 5, 2, 3);
@@ -324,6 +333,7 @@ public final class PromiseTest {
     }
 
     private static void halvesTies() {
+        CHECK.about("8, Builds the tree by a way, BY WAY 1, those with the same one");
         EvenClock sameX = Clocks.of(5, 9, 5, 1, 5, 1, 5, 4);
         sameX.build(1);
         CHECK.parts("same x, so by y, so by number", sameX, 4, 1, 2);
@@ -336,6 +346,7 @@ public final class PromiseTest {
 
     // 10 is cut to 5 and 5, these to 3 and 2, the 3 to 2 and 1: every second cut by y.
     private static void halvesOfTen() {
+        CHECK.about("8, Builds the tree by a way, BY WAY 1, of ten");
         EvenClock clock = Clocks.of(0, 4, 1, 3, 2, 2, 3, 1, 4, 0, 9, 4, 8, 3, 7, 2, 6, 1, 5, 0);
         clock.build(1);
         int[][] due = {
@@ -348,6 +359,7 @@ public final class PromiseTest {
 
     // The join of 0 and 1 has a time greater than sink 2 is far from its region.
     private static void detourOnTheRight() {
+        CHECK.about("8, Builds the tree by a way, If s is greater than d + t");
         EvenClock clock = Clocks.of(0, 0, 1, 20, 2, 10);
         clock.build(1);
         CHECK.parts("first half", clock, 3,
@@ -361,6 +373,7 @@ public final class PromiseTest {
     }
 
     private static void detourOnTheLeft() {
+        CHECK.about("8, Builds the tree by a way, if t is greater than d + s");
         EvenClock clock = Clocks.of(0, 10, 0, 11, 1, 0, 1, 20);
         clock.build(1);
         CHECK.parts("first half", clock, 4,
@@ -371,8 +384,8 @@ public final class PromiseTest {
                 4, 5, -1, 11264, 11264, -9216, -9216, 10240, 11264, 11264, -9216);
     }
 
-    // Promise 10
     private static void length() {
+        CHECK.about("10, The sum of the lengths of all wires");
         EvenClock clock = Clocks.pair();
         CHECK.same("three wires", 6144, clock.length());
         clock.set(2, true);
@@ -385,8 +398,8 @@ public final class PromiseTest {
         CHECK.same("from corner to corner", 409600, alone.length());
     }
 
-    // Promise 11
     private static void depth() {
+        CHECK.about("11, How many joins are above a sink");
         EvenClock clock = Clocks.of(0, 0, 10, 0, 40, 0, 12, 0);
         clock.build(0);
         int[] due = {2, 3, 1, 3};
@@ -403,8 +416,8 @@ public final class PromiseTest {
         CHECK.same("depth of one sink", 0, alone.depth(0));
     }
 
-    // Promise 12
     private static void set() {
+        CHECK.about("12, A buffer is set at a join, or taken away: whether that changed something");
         EvenClock clock = Clocks.of(0, 0, 10, 0, 40, 0, 12, 0);
         clock.build(0);
         CHECK.that("taking none away changes nothing", !clock.set(5, false));
@@ -429,8 +442,8 @@ public final class PromiseTest {
         CHECK.fails("none beside it", Due.INDEX, () -> alone.set(1, true));
     }
 
-    // Promise 13
     private static void setting() {
+        CHECK.about("13, The number of the present setting");
         EvenClock clock = new EvenClock();
         for (int k = 0; k < 10; k++) {
             clock.sink(k, 2 * k, 1, 0);
@@ -450,8 +463,8 @@ public final class PromiseTest {
         CHECK.same("after building", 0, clock.setting());
     }
 
-    // Promise 14
     private static void load() {
+        CHECK.about("14, What a node bears, or shows");
         EvenClock clock = Clocks.of(0, 0, 10, 0, 40, 0, 12, 0);
         clock.build(0);
         CHECK.same("a sink bears", 1024, clock.load(0, false));
@@ -473,8 +486,8 @@ public final class PromiseTest {
         }
     }
 
-    // Promise 15
     private static void delay() {
+        CHECK.about("15, The delay of a sink");
         EvenClock clock = Clocks.pair();
         CHECK.same("left", 71303168L, clock.delay(0));
         CHECK.same("right", 79691776L, clock.delay(1));
@@ -497,8 +510,8 @@ public final class PromiseTest {
         CHECK.same("no wire, no delay", 0, alone.delay(0));
     }
 
-    // Promise 16
     private static void slack() {
+        CHECK.about("16, The slack of the tree");
         EvenClock clock = Clocks.pair();
         CHECK.same("the right one's", 25165824L, clock.slack());
         clock.set(2, true);
@@ -514,8 +527,8 @@ public final class PromiseTest {
         CHECK.same("the greatest need", 1048576000000000L, clock.slack());
     }
 
-    // Promise 17
     private static void best() {
+        CHECK.about("17, The slack of the tree with the BEST setting");
         EvenClock clock = Clocks.pair();
         CHECK.same("with the buffer", 71278592L, clock.best());
         CHECK.same("the slack stays", 25165824L, clock.slack());
@@ -530,8 +543,8 @@ public final class PromiseTest {
         CHECK.same("no join", alone.slack(), alone.best());
     }
 
-    // Promise 18
     private static void improve() {
+        CHECK.about("18, The present setting becomes the BEST one: its number");
         EvenClock clock = Clocks.pair();
         CHECK.same("the buffer helps", 1, clock.improve());
         CHECK.same("and is set", 1, clock.setting());
@@ -566,8 +579,8 @@ public final class PromiseTest {
         CHECK.same("the least number is taken again", 2, clock.improve());
     }
 
-    // Terms, at their end
     private static void treeEnds() {
+        CHECK.about("Terms, sink, cut and source end the tree");
         EvenClock bySink = Clocks.pair();
         bySink.sink(1, 1, 1, 1);
         CHECK.noTree("after sink", bySink);
@@ -586,6 +599,7 @@ public final class PromiseTest {
     }
 
     private static void failureChangesNothing() {
+        CHECK.about("Terms, A call that throws changes nothing");
         EvenClock clock = Clocks.pair();
         clock.set(2, true);
         CHECK.fails("sink", Due.ARGUMENT, () -> clock.sink(0, 0, 0, 0));
