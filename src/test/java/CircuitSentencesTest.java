@@ -116,6 +116,21 @@ public final class CircuitSentencesTest {
     }
 
     private static void delays() {
+        CHECK.about("Terms, A wire of length l has the resistance r * l and the capacity c * l. The"
+                + " DELAY of a wire is its resistance times (its capacity and twice what the node"
+                + " below it shows)");
+        for (int r = 1; r <= 20; r++) {
+            for (int c = 1; c <= 20; c++) {
+                delayOfOneWire(r, c);
+            }
+        }
+        CHECK.about("Terms, The DELAY of a buffer is its own delay and twice its drive times what"
+                + " its join bears");
+        for (int drive : new int[] {1, 2, 500, 1000}) {
+            for (int hold : new int[] {0, 1, 1000000000}) {
+                delayOfOneBuffer(drive, hold);
+            }
+        }
         holds("Terms, The delay of a sink is the sum of those of all wires and buffers from the"
                 + " source to it (the wire above the root and that above itself, too)",
                 (grown, charged) -> {
@@ -129,6 +144,35 @@ public final class CircuitSentencesTest {
                 CHECK.same(charged.name + ": " + sink, sum, charged.clock.delay(sink));
             }
         });
+    }
+
+    /** From the source at 0, 0 to the only sink. */
+    private static void delayOfOneWire(int r, int c) {
+        EvenClock clock = new EvenClock();
+        clock.sink(r, 3, 5 * c, 0);
+        clock.wires(r, c);
+        clock.build(0);
+        long l = 1024 * (r + 3);
+        CHECK.same("r " + r + ", c " + c, r * l * (c * l + 2 * 1024 * 5 * c), clock.delay(0));
+    }
+
+    // The root stands at the source and has no wire above it; wires of 2048 go to both sinks.
+    private static void delayOfOneBuffer(int drive, int hold) {
+        EvenClock clock = new EvenClock();
+        clock.sink(0, 0, 3, 0);
+        clock.sink(4, 0, 5, 0);
+        clock.source(2, 0);
+        clock.build(0);
+        clock.buffer(9, drive, hold);
+        long left = 2048 * (2048 + 2 * 3072);
+        long right = 2048 * (2048 + 2 * 5120);
+        CHECK.same("left, none", left, clock.delay(0));
+        CHECK.same("right, none", right, clock.delay(1));
+        clock.set(2, true);
+        long bears = 3072 + 5120 + 2 * 2048;
+        String with = "drive " + drive + ", delay " + hold;
+        CHECK.same("left, " + with, left + hold + 2 * drive * bears, clock.delay(0));
+        CHECK.same("right, " + with, right + hold + 2 * drive * bears, clock.delay(1));
     }
 
     /** Its resistance times (its capacity and twice what the node below it shows). */

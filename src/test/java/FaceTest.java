@@ -52,6 +52,7 @@ public final class FaceTest {
         CHECK.same("constructors", 1, all.length);
         CHECK.that("the constructor is public and takes nothing",
                 Modifier.isPublic(all[0].getModifiers()) && all[0].getParameterCount() == 0);
+        CHECK.same("exceptions of the constructor", 0, all[0].getExceptionTypes().length);
     }
 
     private static void methods(Class<?> face) {
@@ -61,9 +62,12 @@ public final class FaceTest {
         for (Method method : face.getDeclaredMethods()) {
             if ((method.getModifiers() & HIDDEN) == 0) {
                 open.add(told(method));
+                CHECK.that(method + " is called on an object",
+                        !Modifier.isStatic(method.getModifiers()));
                 openNames.add(method.getName());
             }
         }
+        CHECK.same("methods", 17, open.size());
         CHECK.that("the face is " + open + ", due is " + due, open.equals(due));
         for (Method method : face.getDeclaredMethods()) {
             boolean hidden = (method.getModifiers() & HIDDEN) != 0;

@@ -22,6 +22,7 @@ public final class RefusedTest {
         withoutTree();
         withTree();
         severalInARow();
+        firstNamed();
         CHECK.end();
     }
 
@@ -95,6 +96,32 @@ public final class RefusedTest {
         unchanged("all refused calls", Answers.ofTree(like), Answers.ofTree(clock));
         unchanged("all refused calls", Answers.ofCircuit(like), Answers.ofCircuit(clock));
         unchanged("all refused calls", Answers.ofLater(like), Answers.ofLater(clock));
+    }
+
+    private static void firstNamed() {
+        CHECK.about("Terms, where several exceptions that a call names fit, it is the one that it"
+                + " names first");
+        EvenClock full = Clocks.many(10);
+        CHECK.fails("2, a wrong sink, of ten", Due.ARGUMENT, () -> full.sink(201, 0, 1, 0));
+        EvenClock none = new EvenClock();
+        CHECK.fails("8, a wrong way, of no sink", Due.ARGUMENT, () -> none.build(2));
+        EvenClock unbuilt = Clocks.many(2);
+        CHECK.fails("9, a wrong node, no tree", Due.STATE, () -> unbuilt.node(3, 0));
+        CHECK.fails("9, a wrong part, no tree", Due.STATE, () -> unbuilt.node(0, 11));
+        CHECK.fails("11, a wrong sink, no tree", Due.STATE, () -> unbuilt.depth(2));
+        CHECK.fails("12, a wrong join, no tree", Due.STATE, () -> unbuilt.set(1, true));
+        CHECK.fails("14, a wrong node, no tree", Due.STATE, () -> unbuilt.load(3, true));
+        CHECK.fails("15, a wrong sink, no tree", Due.STATE, () -> unbuilt.delay(2));
+        CHECK.about("Terms, where several exceptions that a call names fit, and when one does");
+        CHECK.fails("2, of ten", Due.UNSUPPORTED, () -> full.sink(200, 0, 1, 0));
+        CHECK.fails("8, of no sink", Due.NO_ELEMENT, () -> none.build(1));
+        unbuilt.build(0);
+        CHECK.fails("9, a wrong node", Due.INDEX, () -> unbuilt.node(3, 0));
+        CHECK.fails("9, a wrong part", Due.INDEX, () -> unbuilt.node(0, 11));
+        CHECK.fails("11, a wrong sink", Due.INDEX, () -> unbuilt.depth(2));
+        CHECK.fails("12, a wrong join", Due.INDEX, () -> unbuilt.set(1, true));
+        CHECK.fails("14, a wrong node", Due.INDEX, () -> unbuilt.load(3, true));
+        CHECK.fails("15, a wrong sink", Due.INDEX, () -> unbuilt.delay(2));
     }
 
     private static void refuse(String state, Supplier<EvenClock> made, List<Refusal> refusals) {

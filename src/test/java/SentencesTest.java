@@ -4,9 +4,9 @@ import java.util.List;
 import java.util.function.Consumer;
 
 /**
- * The document's sentences from its first line to the tree's places, in their order and in their
- * words, each held against what clocks answer for many trees. Nothing is built a second time here:
- * it is asked whether the answers are such as the sentence says.
+ * The document's sentences from its first line to the tree's places, lengths and depths, in their
+ * order and in their words, each held against what clocks answer for many trees. Nothing is built a
+ * second time here: it is asked whether the answers are such as the sentence says.
  */
 public final class SentencesTest {
     private static final Check CHECK = new Check("SentencesTest");
@@ -26,11 +26,13 @@ public final class SentencesTest {
 
     public static void main(String[] args) {
         whatItIs();
+        sinksAndSource();
         placesAndDistances();
         numbersOfNodes();
         toJoin();
         ways();
         places();
+        lengthsAndDepths();
         CHECK.end();
     }
 
@@ -111,6 +113,37 @@ public final class SentencesTest {
         }
     }
 
+    private static void sinksAndSource() {
+        CHECK.about("Terms, SINKS are numbered 0, 1, .. , at most 10");
+        EvenClock clock = new EvenClock();
+        for (int k = 0; k < 10; k++) {
+            CHECK.same("sink", k, clock.sink(k, 0, 1, 0));
+        }
+        CHECK.fails("sink 10", Due.UNSUPPORTED, () -> clock.sink(10, 0, 1, 0));
+        CHECK.about("Terms, A sink has x and y, a LOAD and a NEED");
+        for (int k = 0; k < 10; k++) {
+            EvenClock one = new EvenClock();
+            one.source(20 * k, 7 * k);
+            one.sink(20 * k, 7 * k, 10 * k + 1, 1000 * k);
+            one.build(0);
+            CHECK.same("x and y of " + k + ", where the source is", 0, one.length());
+            CHECK.same("load of " + k, 1024 * (10 * k + 1), one.load(0, false));
+            CHECK.same("need of " + k, 1048576L * 1000 * k, one.slack());
+        }
+        CHECK.about("Terms, The SOURCE has x and y (0 .. 200), at first both 0");
+        for (Grown grown : FOREST) {
+            EvenClock at = grown.again();
+            at.source(0, 0);
+            at.build(grown.way);
+            EvenClock first = new EvenClock();
+            for (int k = 0; k < grown.sinks; k++) {
+                first.sink(grown.x[k], grown.y[k], grown.load[k], grown.need[k]);
+            }
+            first.build(grown.way);
+            CHECK.same(grown.name + ": length", at.length(), first.length());
+        }
+    }
+
     private static void placesAndDistances() {
         holds("Terms, All places are told by U and V: of x and y these are 1024 * (x + y) and"
                 + " 1024 * (x - y)", grown -> {
@@ -129,11 +162,30 @@ public final class SentencesTest {
             CHECK.same(j.name + ": wires", detour ? Math.abs(j.s - j.t) : j.d,
                     j.a[WIRE] + j.b[WIRE]);
         });
-        ofJoins("Terms, A region WIDENED by e has U1 and V1 less by e, U2 and V2 greater by e",
-                j -> {
-            inBoth(j, U1, U2);
-            inBoth(j, V1, V2);
-        });
+        nearestPlaces();
+    }
+
+    // The root's region is u 7168 and v -1024 to 3072; with y mirrored, u and v change about.
+    private static void nearestPlaces() {
+        CHECK.about("Terms, The place of a region NEAREST to a place has the u of U1 .. U2 nearest"
+                + " to its u, the v of V1 .. V2 nearest to its v");
+        int[][] sources = {
+            {0, 0, 0}, {0, 1, -1024}, {0, 2, -1024}, {1, 0, 1024}, {3, 0, 3072}, {4, 0, 3072},
+            {4, 3, 1024}, {3, 4, -1024}, {2, 5, -1024}, {5, 2, 3072}, {9, 9, 0}, {9, 5, 3072},
+        };
+        for (int[] source : sources) {
+            EvenClock clock = Clocks.of(2, 2, 6, 4);
+            clock.source(source[0], source[1]);
+            clock.build(0);
+            String from = "from " + source[0] + ", " + source[1];
+            CHECK.same(from + ": u", 7168, clock.node(2, PLACE_U));
+            CHECK.same(from + ": v", source[2], clock.node(2, PLACE_V));
+            EvenClock mirrored = Clocks.of(2, 7, 6, 5);
+            mirrored.source(source[0], 9 - source[1]);
+            mirrored.build(0);
+            CHECK.same(from + ", mirrored: u", source[2] + 9216, mirrored.node(2, PLACE_U));
+            CHECK.same(from + ", mirrored: v", -2048, mirrored.node(2, PLACE_V));
+        }
     }
 
     private static void distanceOfPlaces() {
@@ -270,6 +322,12 @@ public final class SentencesTest {
                 CHECK.same(j.name + ": both wires", j.d, j.a[WIRE] + j.b[WIRE]);
             }
         });
+        ofJoins("Terms, The join's region are the places that are in the regions of both, each"
+                + " WIDENED by the length of its wire: U1 and V1 less by e, U2 and V2 greater by e",
+                j -> {
+            inBoth(j, U1, U2);
+            inBoth(j, V1, V2);
+        });
         ofJoins("Terms, its time is s and the length above a",
                 j -> CHECK.same(j.name + ": time", j.s + j.a[WIRE], j.join[TIME]));
         for (int seen : cases) {
@@ -380,5 +438,30 @@ public final class SentencesTest {
             CHECK.that(what + " is " + got + ", " + other + " is nearer", !inside
                     || other == got || Math.abs(other - wanted) > Math.abs(got - wanted));
         }
+    }
+
+    private static void lengthsAndDepths() {
+        holds("10, The sum of the lengths of all wires", grown -> {
+            int sum = 0;
+            for (int[] node : grown.nodes) {
+                sum += node[WIRE];
+            }
+            CHECK.same(grown.name + ": length", sum, grown.again().length());
+        });
+        holds("11, How many joins are above a sink", grown -> {
+            EvenClock clock = grown.again();
+            for (int sink = 0; sink < grown.sinks; sink++) {
+                int joins = 0;
+                for (int join = grown.sinks; join < grown.nodes.length; join++) {
+                    joins += isBelow(grown, sink, join) ? 1 : 0;
+                }
+                CHECK.same(grown.name + ": depth of " + sink, joins, clock.depth(sink));
+            }
+        });
+    }
+
+    private static boolean isBelow(Grown grown, int sink, int node) {
+        return node == sink || node >= grown.sinks && (isBelow(grown, sink, grown.nodes[node][LEFT])
+                || isBelow(grown, sink, grown.nodes[node][RIGHT]));
     }
 }
