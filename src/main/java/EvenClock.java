@@ -378,15 +378,19 @@ public final class EvenClock {
 
         /** A parent has a greater number than its children, so going down it is placed before. */
         void choosePlaces(int sourceU, int sourceV) {
-            int root = nodes - 1;
-            standNearest(root, sourceU, sourceV);
-            int alongU = Math.abs(part[root][PLACE_U] - sourceU);
-            int alongV = Math.abs(part[root][PLACE_V] - sourceV);
-            part[root][WIRE] = Math.max(alongU, alongV);
-            for (int k = root - 1; k >= 0; k--) {
+            for (int k = nodes - 1; k >= 0; k--) {
                 int parent = part[k][PARENT];
-                standNearest(k, part[parent][PLACE_U], part[parent][PLACE_V]);
+                if (parent == NO_NODE) {
+                    standNearest(k, sourceU, sourceV);
+                    part[k][WIRE] = wayFrom(k, sourceU, sourceV);
+                } else {
+                    standNearest(k, part[parent][PLACE_U], part[parent][PLACE_V]);
+                }
             }
+        }
+
+        private int wayFrom(int k, int u, int v) {
+            return Math.max(Math.abs(part[k][PLACE_U] - u), Math.abs(part[k][PLACE_V] - v));
         }
 
         private void standNearest(int k, int u, int v) {
@@ -433,20 +437,18 @@ public final class EvenClock {
             measureArrivals(tree, setting);
         }
 
-        /** Children have lesser numbers than their join, so one pass upwards does. */
+        /** Children have lesser numbers than their join: it is complete when its turn comes. */
         private void measureLoads(Tree tree, Pins pins, int setting) {
-            for (int k = 0; k < tree.leaves; k++) {
-                bears[k] = (long) GRID * pins.charge[k];
-                shows[k] = bears[k];
+            for (int k = 0; k < tree.nodes; k++) {
+                bears[k] = k < tree.leaves ? (long) GRID * pins.charge[k] : 0;
             }
-            for (int k = tree.leaves; k < tree.nodes; k++) {
-                bears[k] = hungLoad(tree, tree.part[k][LEFT]) + hungLoad(tree, tree.part[k][RIGHT]);
+            for (int k = 0; k < tree.nodes; k++) {
                 shows[k] = hasBuffer(tree, k, setting) ? GRID * bufferInput : bears[k];
+                int parent = tree.part[k][PARENT];
+                if (parent != NO_NODE) {
+                    bears[parent] += shows[k] + capacity * tree.part[k][WIRE];
+                }
             }
-        }
-
-        private long hungLoad(Tree tree, int child) {
-            return shows[child] + capacity * tree.part[child][WIRE];
         }
 
         private void measureArrivals(Tree tree, int setting) {
